@@ -700,10 +700,11 @@ public final class PartitionCabinet {
         }
 
         void become(Figure other) {
-            begin(other.letter, other.n, other.k);
-            for (int i = 0; i < other.size; i++) {
-                add(other.numberAt(i));
-            }
+            System.arraycopy(other.row, 0, row, 0, GREATEST_SIZE);
+            letter = other.letter;
+            n = other.n;
+            k = other.k;
+            size = other.size;
         }
 
         void add(int number) {
