@@ -475,7 +475,7 @@ public final class PartitionCabinet {
         Figure lastSplit = null;
         for (int i = 0; i < SLOTS; i++) {
             Figure figure = slots[i];
-            if (figure.isHeld() && !isFigureSound(figure)) {
+            if (figure.isHeld() && !(isRankSound(figure) && isShapeSound(figure))) {
                 return false;
             }
             if (figure.isOneOf(SPLITS)) {
@@ -596,10 +596,7 @@ public final class PartitionCabinet {
         }
     }
 
-    private boolean isFigureSound(Figure figure) {
-        if (!isRankSound(figure)) {
-            return false;
-        }
+    private boolean isShapeSound(Figure figure) {
         if (figure.isOneOf(PARTITIONS) && !(isTurnSound(figure) && areFillingsSound(figure))) {
             return false;
         }
@@ -1007,7 +1004,7 @@ public final class PartitionCabinet {
         }
 
         void toFirst(Figure figure) {
-            become(figure, 0);
+            putRanked(figure, 0);
         }
 
         /** The figure becomes the one ranked more by a number, going round. */
@@ -1019,7 +1016,7 @@ public final class PartitionCabinet {
             long rank = rankOf(figure);
             long more = Math.floorMod(by, all);
             // a plain sum of both could pass the end of a long
-            become(figure, rank >= all - more ? rank - (all - more) : rank + more);
+            putRanked(figure, rank >= all - more ? rank - (all - more) : rank + more);
         }
 
         /** The figure becomes the one with the rank that the text, a number, tells; false if there is none. */
@@ -1028,7 +1025,7 @@ public final class PartitionCabinet {
             if (rank < 0) {
                 return false;
             }
-            become(figure, rank);
+            putRanked(figure, rank);
             return true;
         }
 
@@ -1071,7 +1068,7 @@ public final class PartitionCabinet {
             return ahead;
         }
 
-        private void become(Figure figure, long rank) {
+        private void putRanked(Figure figure, long rank) {
             begin(figure.letter, figure.n, figure.k);
             figure.begin(figure.letter, figure.n, figure.k);
             long left = rank;
@@ -1101,6 +1098,7 @@ public final class PartitionCabinet {
         private final boolean isOdd;
         private final int[] table;
         private int filled = 0;
+        private int places = 0;
         private int rest = 0;
         private int most = 0;
         private int left = 0;
@@ -1116,9 +1114,14 @@ public final class PartitionCabinet {
             rest = n;
             most = letter == 'g' ? k : n;
             left = letter == 'l' ? k : n;
+            // the places are filled in their order, each one from lesser sums and parts
             for (int sum = filled + 1; sum <= n && sum <= GREATEST_REST; sum++) {
+                int mostParts = isFew ? sum : 1;
                 for (int part = 1; part <= sum; part++) {
-                    fill(sum, part);
+                    for (int parts = 1; parts <= mostParts && places < table.length; parts++) {
+                        table[places] = ways(sum, part - 1, parts) + waysBehind(sum, part, parts);
+                        places++;
+                    }
                 }
                 filled = sum;
             }
@@ -1140,7 +1143,7 @@ public final class PartitionCabinet {
         }
 
         long waysWith(int part) {
-            return isOdd && part % 2 == 0 ? 0 : ways(rest - part, isUnlike ? part - 1 : part, left - 1);
+            return waysBehind(rest, part, left);
         }
 
         void put(int part) {
@@ -1149,17 +1152,9 @@ public final class PartitionCabinet {
             left--;
         }
 
-        /** Fills the places of a sum and a greatest part from those of lesser ones. */
-        private void fill(int sum, int part) {
-            int deepest = isFew ? sum : 1;
-            boolean mayStand = !isOdd || part % 2 == 1;
-            for (int parts = 1; parts <= deepest; parts++) {
-                int with = mayStand ? ways(sum - part, isUnlike ? part - 1 : part, parts - 1) : 0;
-                int index = place(sum, part, parts);
-                if (index >= 0 && index < table.length) {
-                    table[index] = ways(sum, part - 1, parts) + with;
-                }
-            }
+        /** How many partitions a sum has whose first part is just one, and, for few parts, of so many at most. */
+        private int waysBehind(int sum, int part, int parts) {
+            return isOdd && part % 2 == 0 ? 0 : ways(sum - part, isUnlike ? part - 1 : part, parts - 1);
         }
 
         /** How many partitions a sum has without a part above one, and, for few parts, of so many at most. */
@@ -1170,15 +1165,14 @@ public final class PartitionCabinet {
             if (sum < 0 || part <= 0 || isFew && parts <= 0) {
                 return 0;
             }
-            int index = place(sum, part < sum ? part : sum, parts < sum ? parts : sum);
-            return index >= 0 && index < table.length ? table[index] : 0;
-        }
-
-        private int place(int sum, int part, int parts) {
+            int index = (part < sum ? part : sum) - 1;
             if (isFew) {
-                return (sum - 1) * sum * (2 * sum - 1) / 6 + (part - 1) * sum + parts - 1;
+                // ahead of a sum stand the squares of all lesser ones
+                index = (sum - 1) * sum * (2 * sum - 1) / 6 + index * sum + (parts < sum ? parts : sum) - 1;
+            } else {
+                index += sum * (sum - 1) / 2;
             }
-            return sum * (sum - 1) / 2 + part - 1;
+            return index >= 0 && index < table.length ? table[index] : 0;
         }
     }
 
@@ -1444,7 +1438,7 @@ public final class PartitionCabinet {
         }
 
         long waysWith(int sign) {
-            return isRise(sign) ? ways(risesLeft - 1, fallsLeft) : ways(risesLeft, fallsLeft - 1);
+            return isRise(sign) ? waysToEnd(risesLeft - 1, fallsLeft) : waysToEnd(risesLeft, fallsLeft - 1);
         }
 
         void put(int sign) {
@@ -1460,7 +1454,7 @@ public final class PartitionCabinet {
             return isBranches ? sign == 1 : sign == 0;
         }
 
-        private long ways(int rises, int falls) {
+        private long waysToEnd(int rises, int falls) {
             if (isBranches && falls == 0) {
                 return rises == 0 ? 1 : 0;
             }
