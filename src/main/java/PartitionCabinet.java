@@ -202,13 +202,14 @@ public final class PartitionCabinet {
 
     /** Lets the slot of the latest call that is kept hold what it held ahead of it; returns the slot. */
     public int undo() throws NoSuchElementException {
-        if (keptCount <= 0) {
+        int latest = keptNext > 0 ? keptNext - 1 : KEPT - 1;
+        if (keptCount <= 0 || latest >= KEPT) {
             throw new NoSuchElementException("no call is kept");
         }
-        keptNext = (keptNext + KEPT - 1) % KEPT;
+        keptNext = latest;
         keptCount--;
-        int slot = keptSlots[keptNext];
-        putInto(slot, kept[keptNext]);
+        int slot = keptSlots[latest];
+        putInto(slot, kept[latest]);
         return slot;
     }
 
@@ -1553,11 +1554,11 @@ public final class PartitionCabinet {
 
     /** The codes of trees: the row, read as digits to the base n, is the rank itself, which may pass a long. */
     private static final class CodeWalk extends Walk {
-        private int base = 1;
+        private int nodes = 0;
         private int left = 0;
 
         void begin(char letter, int n, int k) {
-            base = n > 1 ? n : 1;
+            nodes = n;
             left = n > 2 ? n - 2 : 0;
         }
 
@@ -1570,7 +1571,7 @@ public final class PartitionCabinet {
         }
 
         int greatest() {
-            return left > 0 ? base - 1 : -1;
+            return left > 0 ? nodes - 1 : -1;
         }
 
         long waysWith(int node) {
@@ -1613,9 +1614,9 @@ public final class PartitionCabinet {
         }
 
         void move(Figure figure, long by) {
-            begin(figure.letter, figure.n, figure.k);
             long more = by;
             int carry = 0;
+            int base = Math.max(1, figure.n);
             for (int i = figure.size - 1; i >= 0; i--) {
                 int all = figure.numberAt(i) + (int) Math.floorMod(more, (long) base) + carry;
                 figure.put(i, all % base);
@@ -1637,6 +1638,7 @@ public final class PartitionCabinet {
         /** The row becomes the one with ten times its rank plus a digit; false if there is none. */
         private boolean timesTenPlus(Figure figure, int digit) {
             int carry = digit;
+            int base = Math.max(1, figure.n);
             for (int i = figure.size - 1; i >= 0; i--) {
                 int all = figure.numberAt(i) * 10 + carry;
                 figure.put(i, all % base);
@@ -1662,7 +1664,7 @@ public final class PartitionCabinet {
             }
             for (int i = 0; i < code.size; i++) {
                 int leaf = leastLeaf();
-                if (leaf < nodes) {
+                if (leaf >= 0 && leaf < nodes) {
                     parents[leaf] = code.numberAt(i);
                 }
                 prune(leaf);
@@ -1671,12 +1673,12 @@ public final class PartitionCabinet {
 
         /** Puts the code that the tree has behind a row. */
         void writeCode(Figure code) {
-            for (int i = 0; i < nodes; i++) {
+            for (int i = 0; i < GREATEST_N; i++) {
                 joints[i] = 0;
             }
             for (int i = 0; i < nodes - 1; i++) {
                 changeJoints(i, 1);
-                changeJoints(parents[i], 1);
+                changeJoints(parentOf(i), 1);
             }
             for (int i = 2; i < nodes; i++) {
                 int leaf = leastLeaf();
@@ -1717,7 +1719,7 @@ public final class PartitionCabinet {
         /** The least node with one joint. */
         private int leastLeaf() {
             int leaf = 0;
-            while (leaf < nodes && joints[leaf] != 1) {
+            while (leaf < nodes && leaf < GREATEST_N && joints[leaf] != 1) {
                 leaf++;
             }
             return leaf;
@@ -1853,7 +1855,7 @@ public final class PartitionCabinet {
             for (int factor = GREATEST_PART; factor > 1; factor--) {
                 int divisor = leastDivisor(factor);
                 int power = tallied(factor);
-                if (divisor < factor) {
+                if (divisor > 1 && divisor < factor) {
                     tallyMore(divisor, power);
                     tallyMore(factor / divisor, power);
                     tallyMore(factor, -power);
@@ -1894,7 +1896,7 @@ public final class PartitionCabinet {
             for (int i = 0; i < columns.size; i++) {
                 states *= columns.numberAt(i) + 1;
             }
-            if (states > STATES) {
+            if (states < 1 || states > STATES) {
                 return 0;
             }
             for (int i = 0; i < states; i++) {
@@ -1914,27 +1916,33 @@ public final class PartitionCabinet {
         private void takeFromColumns(Figure columns, int states) {
             int stride = 1;
             for (int i = 0; i < columns.size; i++) {
-                int base = columns.numberAt(i) + 1;
-                for (int state = states - 1 - stride; state >= 0 && stride > 0 && base > 0; state--) {
-                    if (state / stride % base < base - 1) {
+                int last = Math.min(states, STATES) - 1;
+                for (int state = last - stride; state >= 0; state--) {
+                    if (leftOf(columns, i, state) < columns.numberAt(i)) {
                         ways[state] += ways[state + stride];
                     }
                 }
-                stride *= base;
+                stride *= columns.numberAt(i) + 1;
             }
         }
 
         private void keepStatesOf(Figure columns, int states, int left) {
-            for (int state = 0; state < states; state++) {
-                int digits = state;
+            for (int state = 0; state < states && state < STATES; state++) {
                 int sum = 0;
                 for (int i = 0; i < columns.size; i++) {
-                    int base = columns.numberAt(i) + 1;
-                    sum += base > 0 ? digits % base : 0;
-                    digits = base > 0 ? digits / base : 0;
+                    sum += leftOf(columns, i, state);
                 }
                 ways[state] = sum == left ? ways[state] : 0;
             }
+        }
+
+        /** What is left of the sum of a column in a state. */
+        private int leftOf(Figure columns, int column, int state) {
+            int digits = state;
+            for (int i = 0; i < column; i++) {
+                digits /= Math.max(0, columns.numberAt(i)) + 1;
+            }
+            return digits % (Math.max(0, columns.numberAt(column)) + 1);
         }
 
         /** By both sums so far a number of the corner table is what its row and its column share. */
