@@ -243,7 +243,7 @@ abstract class BoundaryBench {
     }
 
     static void letterIs(int slot, char due) {
-        check(x.family(slot), due);
+        check(answerOf(c -> c.family(slot), x), due);
     }
 
     static void put(String signs) {

@@ -255,6 +255,20 @@ public final class BoundariesOfFigureCalls extends BoundaryBench {
                 put(count.subtract(BigInteger.ONE).toString());
                 takes(c -> c.unrank(4, (Character) each[0], (Integer) each[1], 1));
             }
+            // so many times the numbers that an int and a long have, and a few more
+            for (int times = 1; times <= 40; times++) {
+                for (int bits : new int[] {31, 32, 63, 64}) {
+                    String none = BigInteger.valueOf(times).shiftLeft(bits).add(BigInteger.TWO).toString();
+                    fresh();
+                    put(none);
+                    refuses(NONE, c -> c.unrank(4, 'a', 5, 0));
+                    refuses(NONE, c -> c.unrank(4, 't', 3, 0));
+                    if (none.length() > 18) {
+                        refuses(NONE, c -> c.unrank(4, 's', 25, 0));
+                        refuses(NONE, c -> c.unrank(4, 'c', 60, 30));
+                    }
+                }
+            }
             for (String none : new String[] {"2147483648", "4294967296", "9223372036854775807", "9223372036854775808", "18446744073709551616",
                 "18446744073709551619", "-9223372036854775808", "-18446744073709551613"}) {
                 fresh();

@@ -135,6 +135,22 @@ public final class BoundariesOfKeeping extends BoundaryBench {
             faultAt(1, 'a', 5, 0, "3/2");
             faultAt(1, 'a', 5, 0, "3:2");
             faultAt(1, 'a', 5, 0, "3.2");
+            // no digit is no 0
+            for (char family : "skubvt".toCharArray()) {
+                faultAt(0, family, 4, 2, ",");
+                faultAt(0, family, 4, 2, ",1");
+                faultAt(0, family, 4, 2, ",0,1");
+                faultAt(0, family, 4, 2, " ");
+            }
+            faultAt(2, 's', 3, 0, "0,,1");
+            faultAt(4, 's', 3, 0, "0,1,");
+            faultAt(2, 'k', 3, 2, "0,,1");
+            faultAt(4, 'k', 3, 2, "0,1,");
+            faultAt(2, 'b', 2, 0, "0,,1,1");
+            faultAt(2, 'v', 1, 0, "1,,0");
+            faultAt(4, 'v', 1, 0, "1,0,");
+            faultAt(2, 't', 4, 0, "1,");
+            faultAt(2, 't', 4, 0, "1, ");
         }
 
         private static void becomes(String row, String signs) {

@@ -352,6 +352,17 @@ public final class BoundariesOfSetCalls extends BoundaryBench {
                 answers(each[3], c -> c.join(9, 0, 1));
                 answers(each[3], c -> c.blocks(9));
             }
+            // one join behind another one
+            fresh();
+            hold(0, 's', 3, 0, "0,1,0");
+            hold(1, 's', 3, 0, "0,1,1");
+            hold(2, 's', 3, 0, "0,1,2");
+            answers(1, c -> c.join(9, 0, 1));
+            answers(3, c -> c.join(9, 2, 2));
+            rowIs(9, "0,1,2");
+            answers(1, c -> c.join(9, 1, 0));
+            answers(2, c -> c.join(9, 1, 2));
+            rowIs(9, "0,1,1");
         }
 
         private static void meetBlocks() {

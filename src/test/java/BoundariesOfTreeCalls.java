@@ -75,7 +75,7 @@ public final class BoundariesOfTreeCalls extends BoundaryBench {
         private static void deepest() {
             sentence("Returns how many brackets are open at most at once, or how many knots stand in a row from the top down at most.");
             for (Object[] each : new Object[][] {{0, "", 0, 0}, {1, "0,1", 1, 1}, {2, "0,1,0,1", 1, 2}, {2, "0,0,1,1", 2, 2}, {3, "0,1,0,1,0,1", 1, 3},
-                {3, "0,0,0,1,1,1", 3, 3}, {3, "0,0,1,1,0,1", 2, 2}, {4, "0,0,1,1,0,0,1,1", 2, 3}, {4, "0,0,1,0,1,1,0,1", 2, 3},
+                {3, "0,0,0,1,1,1", 3, 3}, {3, "0,0,1,1,0,1", 2, 2}, {3, "0,1,0,0,1,1", 2, 3}, {4, "0,1,0,1,0,0,1,1", 2, 4}, {4, "0,0,1,1,0,0,1,1", 2, 3}, {4, "0,0,1,0,1,1,0,1", 2, 3},
                 {20, "0" + ",0".repeat(19) + ",1".repeat(20), 20, 20}, {20, "0,1" + ",0,1".repeat(19), 1, 20}}) {
                 fresh();
                 hold(9, 'b', (Integer) each[0], 0, (String) each[1]);
