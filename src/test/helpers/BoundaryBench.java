@@ -450,7 +450,8 @@ abstract class BoundaryBench {
         for (char one : letters.toCharArray()) {
             for (char other : letters.toCharArray()) {
                 int last = greatest(one);
-                for (int[] n : new int[][] {{0, 0}, {0, 1}, {1, 0}, {4, 4}, {4, 5}, {5, 4}, {last, last - 1}, {last, last}}) {
+                for (int[] n : new int[][] {{0, 0}, {0, 1}, {1, 0}, {4, 4}, {4, 5}, {5, 4}, {last, last - 1},
+                    {last, last}}) {
                     fresh();
                     make(0, one, n[0], Math.min(n[0], 1));
                     make(1, other, n[1], Math.min(n[1], 1));

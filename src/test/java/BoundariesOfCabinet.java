@@ -41,9 +41,11 @@ public final class BoundariesOfCabinet extends BoundaryBench {
             isSound();
             soundAnswers();
             section("Not promised");
-            plain("How the state is held inside the object is free, as are the speed of each call, the text of toString and the behaviour of"
-                    + " equals and hashCode.", "Use of one object from several threads at once is not promised to be safe.",
-                    "Nothing is promised beyond the answers and state changes described above, and nothing about an object after its 512th call.");
+            plain("How the state is held inside the object is free, as are the speed of each call, the text of toString and"
+                    + " the behaviour of equals and hashCode.",
+                    "Use of one object from several threads at once is not promised to be safe.",
+                    "Nothing is promised beyond the answers and state changes described above, and nothing about an object"
+                    + " after its 512th call.");
         }
 
         private static void held() {
@@ -65,9 +67,9 @@ public final class BoundariesOfCabinet extends BoundaryBench {
         }
 
         private static void checksum() {
-            sentence("Returns 7 at first, then for each slot 31 times itself plus 0 if it holds none, else plus the code of the letter, then 31"
-                    + " times itself plus n, then plus k likewise, then likewise each number of its row; then for each sign of the text 31 times"
-                    + " itself plus its code.");
+            sentence("Returns 7 at first, then for each slot 31 times itself plus 0 if it holds none, else plus the code of the"
+                    + " letter, then 31 times itself plus n, then plus k likewise, then likewise each number of its row; then for"
+                    + " each sign of the text 31 times itself plus its code.");
             sumIs(7L * 819628286980801L, "");
             sumOf("", "0 0 0 0 0 0 0 0 0 0");
             put(" ");
@@ -111,11 +113,12 @@ public final class BoundariesOfCabinet extends BoundaryBench {
         }
 
         private static void isSound() {
-            sentence("Checks the theorem for each figure that is held: its rank makes it again, and the one behind it, but for the last one, has"
-                    + " the rank 1 more; a partition turned twice, an odd or unlike one matched twice, brackets and branches branched twice are"
-                    + " the same; a tree made from its code has this code; the square of the number of fillings of a partition of at most 20 is"
-                    + " not above the product of the numbers to its n; the triangles at all corners are three for each knot; the joins and meets"
-                    + " of splits of one n that follow each other in the slots are where they must be, by isFiner().");
+            sentence("Checks the theorem for each figure that is held: its rank makes it again, and the one behind it, but for the"
+                    + " last one, has the rank 1 more; a partition turned twice, an odd or unlike one matched twice, brackets and"
+                    + " branches branched twice are the same; a tree made from its code has this code; the square of the number of"
+                    + " fillings of a partition of at most 20 is not above the product of the numbers to its n; the triangles at all"
+                    + " corners are three for each knot; the joins and meets of splits of one n that follow each other in the slots"
+                    + " are where they must be, by isFiner().");
             answers(true, PartitionCabinet::isSound);
             for (char family : FAMILIES.toCharArray()) {
                 for (int n : new int[] {least(family), least(family) + 1, 19, 20, 21, greatest(family)}) {

@@ -46,12 +46,13 @@ public final class BoundariesOfFigureCalls extends BoundaryBench {
         /** None, one, and the most that there are in each family. */
         private static void counts() {
             sentence("Puts the count of a family into the text.");
-            Object[][] told = {{'a', 0, 0, "1"}, {'a', 60, 60, "966467"}, {'l', 1, 0, "0"}, {'l', 60, 60, "966467"}, {'g', 1, 0, "0"},
-                {'g', 60, 60, "966467"}, {'d', 0, 0, "1"}, {'d', 60, 0, "10880"}, {'o', 0, 0, "1"}, {'o', 60, 0, "10880"},
-                {'s', 0, 0, "1"}, {'s', 25, 0, "4638590332229999353"}, {'k', 0, 1, "0"}, {'k', 25, 10, "1203163392175387500"},
-                {'u', 0, 1, "0"}, {'u', 40, 20, "137846528820"}, {'b', 0, 0, "1"}, {'b', 20, 0, "6564120420"}, {'v', 0, 0, "1"},
-                {'v', 20, 0, "6564120420"}, {'t', 1, 0, "1"}, {'t', 20, 0, "262144000000000000000000"}, {'c', 0, 1, "0"},
-                {'c', 60, 30, "59132290782430712"}, {'c', 60, 31, "59132290782430712"}};
+            Object[][] told = {{'a', 0, 0, "1"}, {'a', 60, 60, "966467"}, {'l', 1, 0, "0"}, {'l', 60, 60, "966467"},
+                {'g', 1, 0, "0"}, {'g', 60, 60, "966467"}, {'d', 0, 0, "1"}, {'d', 60, 0, "10880"}, {'o', 0, 0, "1"},
+                {'o', 60, 0, "10880"}, {'s', 0, 0, "1"}, {'s', 25, 0, "4638590332229999353"}, {'k', 0, 1, "0"},
+                {'k', 25, 10, "1203163392175387500"}, {'u', 0, 1, "0"}, {'u', 40, 20, "137846528820"}, {'b', 0, 0, "1"},
+                {'b', 20, 0, "6564120420"}, {'v', 0, 0, "1"}, {'v', 20, 0, "6564120420"}, {'t', 1, 0, "1"},
+                {'t', 20, 0, "262144000000000000000000"}, {'c', 0, 1, "0"}, {'c', 60, 30, "59132290782430712"},
+                {'c', 60, 31, "59132290782430712"}};
             for (Object[] each : told) {
                 fresh();
                 put("~".repeat(200));
@@ -120,15 +121,16 @@ public final class BoundariesOfFigureCalls extends BoundaryBench {
 
         private static void firsts() {
             sentence("Lets a slot become the first figure of a family.");
-            Object[][] told = {{'a', 0, 0, ""}, {'a', 1, 0, "1"}, {'a', 4, 0, "1,1,1,1"}, {'l', 4, 4, "1,1,1,1"}, {'l', 4, 3, "2,1,1"},
-                {'l', 4, 1, "4"}, {'l', 0, 0, ""}, {'l', 60, 1, "60"}, {'g', 4, 1, "1,1,1,1"}, {'g', 0, 0, ""}, {'d', 0, 0, ""},
-                {'d', 1, 0, "1"}, {'d', 2, 0, "2"}, {'d', 10, 0, "4,3,2,1"}, {'d', 60, 0, "11,10,9,8,7,5,4,3,2,1"},
-                {'o', 4, 0, "1,1,1,1"}, {'o', 0, 0, ""}, {'s', 0, 0, ""}, {'s', 1, 0, "0"}, {'s', 3, 0, "0,0,0"}, {'k', 0, 0, ""},
-                {'k', 3, 1, "0,0,0"}, {'k', 3, 2, "0,0,1"}, {'k', 3, 3, "0,1,2"}, {'u', 0, 0, ""}, {'u', 40, 0, ""}, {'u', 40, 1, "0"},
-                {'u', 3, 3, "0,1,2"}, {'b', 0, 0, ""}, {'b', 1, 0, "0,1"}, {'b', 3, 0, "0,0,0,1,1,1"}, {'v', 0, 0, "0"},
-                {'v', 1, 0, "1,0,0"}, {'v', 3, 0, "1,0,1,0,1,0,0"}, {'t', 1, 0, ""}, {'t', 2, 0, ""}, {'t', 3, 0, "0"},
-                {'t', 20, 0, "0" + ",0".repeat(17)}, {'c', 0, 0, ""}, {'c', 5, 1, "5"}, {'c', 5, 3, "1,1,3"}, {'c', 5, 5, "1,1,1,1,1"},
-                {'c', 60, 2, "1,59"}};
+            Object[][] told = {{'a', 0, 0, ""}, {'a', 1, 0, "1"}, {'a', 4, 0, "1,1,1,1"}, {'l', 4, 4, "1,1,1,1"},
+                {'l', 4, 3, "2,1,1"}, {'l', 4, 1, "4"}, {'l', 0, 0, ""}, {'l', 60, 1, "60"}, {'g', 4, 1, "1,1,1,1"},
+                {'g', 0, 0, ""}, {'d', 0, 0, ""}, {'d', 1, 0, "1"}, {'d', 2, 0, "2"}, {'d', 10, 0, "4,3,2,1"},
+                {'d', 60, 0, "11,10,9,8,7,5,4,3,2,1"}, {'o', 4, 0, "1,1,1,1"}, {'o', 0, 0, ""}, {'s', 0, 0, ""},
+                {'s', 1, 0, "0"}, {'s', 3, 0, "0,0,0"}, {'k', 0, 0, ""}, {'k', 3, 1, "0,0,0"}, {'k', 3, 2, "0,0,1"},
+                {'k', 3, 3, "0,1,2"}, {'u', 0, 0, ""}, {'u', 40, 0, ""}, {'u', 40, 1, "0"}, {'u', 3, 3, "0,1,2"},
+                {'b', 0, 0, ""}, {'b', 1, 0, "0,1"}, {'b', 3, 0, "0,0,0,1,1,1"}, {'v', 0, 0, "0"}, {'v', 1, 0, "1,0,0"},
+                {'v', 3, 0, "1,0,1,0,1,0,0"}, {'t', 1, 0, ""}, {'t', 2, 0, ""}, {'t', 3, 0, "0"},
+                {'t', 20, 0, "0" + ",0".repeat(17)}, {'c', 0, 0, ""}, {'c', 5, 1, "5"}, {'c', 5, 3, "1,1,3"},
+                {'c', 5, 5, "1,1,1,1,1"}, {'c', 60, 2, "1,59"}};
             for (Object[] each : told) {
                 fresh();
                 put("left alone");
@@ -149,10 +151,11 @@ public final class BoundariesOfFigureCalls extends BoundaryBench {
 
         /** Rows without a number, with one, and the longest ones, of the first figure. */
         private static void lengthsAre(FamilyCall call) {
-            Object[][] told = {{'a', 0, 0, 0}, {'a', 1, 0, 1}, {'a', 60, 0, 60}, {'l', 0, 0, 0}, {'l', 60, 60, 60}, {'l', 60, 1, 1}, {'g', 60, 1, 60},
-                {'d', 0, 0, 0}, {'d', 2, 0, 1}, {'d', 55, 0, 10}, {'o', 60, 0, 60}, {'s', 0, 0, 0}, {'s', 25, 0, 25}, {'k', 25, 25, 25}, {'k', 0, 0, 0},
-                {'u', 40, 0, 0}, {'u', 40, 1, 1}, {'u', 40, 40, 40}, {'b', 0, 0, 0}, {'b', 20, 0, 40}, {'v', 0, 0, 1}, {'v', 20, 0, 41},
-                {'t', 1, 0, 0}, {'t', 2, 0, 0}, {'t', 3, 0, 1}, {'t', 20, 0, 18}, {'c', 0, 0, 0}, {'c', 60, 1, 1}, {'c', 60, 60, 60}};
+            Object[][] told = {{'a', 0, 0, 0}, {'a', 1, 0, 1}, {'a', 60, 0, 60}, {'l', 0, 0, 0}, {'l', 60, 60, 60},
+                {'l', 60, 1, 1}, {'g', 60, 1, 60}, {'d', 0, 0, 0}, {'d', 2, 0, 1}, {'d', 55, 0, 10}, {'o', 60, 0, 60},
+                {'s', 0, 0, 0}, {'s', 25, 0, 25}, {'k', 25, 25, 25}, {'k', 0, 0, 0}, {'u', 40, 0, 0}, {'u', 40, 1, 1},
+                {'u', 40, 40, 40}, {'b', 0, 0, 0}, {'b', 20, 0, 40}, {'v', 0, 0, 1}, {'v', 20, 0, 41}, {'t', 1, 0, 0},
+                {'t', 2, 0, 0}, {'t', 3, 0, 1}, {'t', 20, 0, 18}, {'c', 0, 0, 0}, {'c', 60, 1, 1}, {'c', 60, 60, 60}};
             for (Object[] each : told) {
                 fresh();
                 put("0");
@@ -170,14 +173,16 @@ public final class BoundariesOfFigureCalls extends BoundaryBench {
 
         /** Families with none, each beside one that has one. */
         private static void noneOrOne(FamilyCall call) {
-            Object[][] none = {{'l', 1, 0}, {'l', 60, 0}, {'g', 1, 0}, {'g', 60, 0}, {'k', 0, 1}, {'k', 1, 0}, {'k', 3, 4}, {'k', 25, 26}, {'k', 25, 60},
-                {'u', 0, 1}, {'u', 3, 4}, {'u', 40, 41}, {'u', 40, 60}, {'c', 0, 1}, {'c', 1, 0}, {'c', 3, 4}, {'c', 59, 60}, {'c', 60, 0}};
+            Object[][] none = {{'l', 1, 0}, {'l', 60, 0}, {'g', 1, 0}, {'g', 60, 0}, {'k', 0, 1}, {'k', 1, 0}, {'k', 3, 4},
+                {'k', 25, 26}, {'k', 25, 60}, {'u', 0, 1}, {'u', 3, 4}, {'u', 40, 41}, {'u', 40, 60}, {'c', 0, 1},
+                {'c', 1, 0}, {'c', 3, 4}, {'c', 59, 60}, {'c', 60, 0}};
             for (Object[] each : none) {
                 refuses(NONE, c -> call.on(c, (Character) each[0], (Integer) each[1], (Integer) each[2]));
             }
-            Object[][] some = {{'l', 1, 1}, {'l', 0, 0}, {'l', 60, 1}, {'g', 1, 1}, {'g', 0, 0}, {'k', 0, 0}, {'k', 1, 1}, {'k', 3, 3}, {'k', 25, 25},
-                {'u', 0, 0}, {'u', 1, 0}, {'u', 3, 3}, {'u', 40, 40}, {'c', 0, 0}, {'c', 1, 1}, {'c', 3, 3}, {'c', 60, 60}, {'c', 60, 1},
-                {'a', 0, 0}, {'d', 1, 0}, {'d', 2, 0}, {'o', 2, 0}, {'s', 0, 0}, {'b', 0, 0}, {'v', 0, 0}, {'t', 1, 0}, {'t', 2, 0}};
+            Object[][] some = {{'l', 1, 1}, {'l', 0, 0}, {'l', 60, 1}, {'g', 1, 1}, {'g', 0, 0}, {'k', 0, 0}, {'k', 1, 1},
+                {'k', 3, 3}, {'k', 25, 25}, {'u', 0, 0}, {'u', 1, 0}, {'u', 3, 3}, {'u', 40, 40}, {'c', 0, 0}, {'c', 1, 1},
+                {'c', 3, 3}, {'c', 60, 60}, {'c', 60, 1}, {'a', 0, 0}, {'d', 1, 0}, {'d', 2, 0}, {'o', 2, 0}, {'s', 0, 0},
+                {'b', 0, 0}, {'v', 0, 0}, {'t', 1, 0}, {'t', 2, 0}};
             for (Object[] each : some) {
                 takes(c -> call.on(c, (Character) each[0], (Integer) each[1], (Integer) each[2]));
             }
@@ -185,10 +190,11 @@ public final class BoundariesOfFigureCalls extends BoundaryBench {
 
         private static void unranks() {
             sentence("Reads the text for a rank; a slot becomes the figure of a family with it.");
-            Object[][] told = {{"0", 'a', 5, "1,1,1,1,1"}, {"6", 'a', 5, "5"}, {"+6", 'a', 5, "5"}, {"3", 'a', 5, "3,1,1"}, {"-0", 'a', 5, "1,1,1,1,1"},
-                {"+0", 'a', 5, "1,1,1,1,1"}, {"-" + "0".repeat(199), 'a', 5, "1,1,1,1,1"}, {"0".repeat(199) + "6", 'a', 5, "5"},
-                {"+" + "0".repeat(198) + "6", 'a', 5, "5"}, {"0", 'a', 0, ""}, {"0", 't', 1, ""}, {"0", 't', 2, ""}, {"-0", 't', 2, ""},
-                {"-" + "0".repeat(199), 't', 4, "0,0"}, {"+15", 't', 4, "3,3"}, {"0000000015", 't', 4, "3,3"}, {"0", 'v', 0, "0"},
+            Object[][] told = {{"0", 'a', 5, "1,1,1,1,1"}, {"6", 'a', 5, "5"}, {"+6", 'a', 5, "5"}, {"3", 'a', 5, "3,1,1"},
+                {"-0", 'a', 5, "1,1,1,1,1"}, {"+0", 'a', 5, "1,1,1,1,1"}, {"-" + "0".repeat(199), 'a', 5, "1,1,1,1,1"},
+                {"0".repeat(199) + "6", 'a', 5, "5"}, {"+" + "0".repeat(198) + "6", 'a', 5, "5"}, {"0", 'a', 0, ""},
+                {"0", 't', 1, ""}, {"0", 't', 2, ""}, {"-0", 't', 2, ""}, {"-" + "0".repeat(199), 't', 4, "0,0"},
+                {"+15", 't', 4, "3,3"}, {"0000000015", 't', 4, "3,3"}, {"0", 'v', 0, "0"},
                 {"262143999999999999999999", 't', 20, "19" + ",19".repeat(17)},
                 {"131072000000000000000000", 't', 20, "10" + ",0".repeat(17)}, {"9223372036854775808", 't', 20, null},
                 {"966466", 'a', 60, "60"}, {"10879", 'd', 60, "60"}, {"4638590332229999352", 's', 25, null}};
@@ -216,8 +222,9 @@ public final class BoundariesOfFigureCalls extends BoundaryBench {
 
         private static void noNumber() {
             sentence("Throws `NumberFormatException` if the text is not perhaps one '+' or '-', and one digit or more");
-            String[] none = {"", "+", "-", "++1", "--1", "+-1", "-+1", "1+", "1-", "1 ", " 1", "+ 1", "1,1", ",1", "1,", "/", ":", "/1", "1/", ":1", "1:",
-                "a", "1a", "0x1", "1.0", "1e3", "9".repeat(199) + "x", "x" + "9".repeat(199), "+".repeat(200), "~", "1_0", "*1", "'1"};
+            String[] none = {"", "+", "-", "++1", "--1", "+-1", "-+1", "1+", "1-", "1 ", " 1", "+ 1", "1,1", ",1", "1,",
+                "/", ":", "/1", "1/", ":1", "1:", "a", "1a", "0x1", "1.0", "1e3", "9".repeat(199) + "x",
+                "x" + "9".repeat(199), "+".repeat(200), "~", "1_0", "*1", "'1"};
             for (String signs : none) {
                 fresh();
                 make(9, 'a', 3, 0);
@@ -225,7 +232,8 @@ public final class BoundariesOfFigureCalls extends BoundaryBench {
                 refuses(NUMBER, c -> c.unrank(9, 'a', 5, 0));
                 refuses(NUMBER, c -> c.unrank(8, 't', 20, 0));
             }
-            for (String signs : new String[] {"0", "1", "9", "+0", "+9", "-0", "09", "10", "+" + "0".repeat(199), "0".repeat(200)}) {
+            for (String signs : new String[] {"0", "1", "9", "+0", "+9", "-0", "09", "10", "+" + "0".repeat(199),
+                "0".repeat(200)}) {
                 fresh();
                 put(signs);
                 takes(c -> c.unrank(9, 'a', 6, 0));
@@ -238,15 +246,16 @@ public final class BoundariesOfFigureCalls extends BoundaryBench {
             fresh();
             put("0");
             noneOrOne((c, f, n, k) -> c.unrank(4, f, n, k));
-            Object[][] last = {{'a', 5, "7"}, {'a', 0, "1"}, {'a', 60, "966467"}, {'l', 60, "1"}, {'g', 60, "1"}, {'d', 60, "10880"}, {'o', 60, "10880"},
-                {'s', 0, "1"}, {'s', 25, "4638590332229999353"}, {'k', 25, "1"}, {'u', 40, "40"}, {'b', 0, "1"}, {'b', 20, "6564120420"},
-                {'v', 0, "1"}, {'v', 20, "6564120420"}, {'t', 1, "1"}, {'t', 2, "1"}, {'t', 3, "3"}, {'t', 20, "262144000000000000000000"},
-                {'c', 60, "1"}};
+            Object[][] last = {{'a', 5, "7"}, {'a', 0, "1"}, {'a', 60, "966467"}, {'l', 60, "1"}, {'g', 60, "1"},
+                {'d', 60, "10880"}, {'o', 60, "10880"}, {'s', 0, "1"}, {'s', 25, "4638590332229999353"}, {'k', 25, "1"},
+                {'u', 40, "40"}, {'b', 0, "1"}, {'b', 20, "6564120420"}, {'v', 0, "1"}, {'v', 20, "6564120420"},
+                {'t', 1, "1"}, {'t', 2, "1"}, {'t', 3, "3"}, {'t', 20, "262144000000000000000000"}, {'c', 60, "1"}};
             for (Object[] each : last) {
                 BigInteger count = new BigInteger((String) each[2]);
                 BigInteger round = BigInteger.ONE.shiftLeft(64);
-                for (String none : new String[] {count.toString(), "+" + count, count.add(BigInteger.ONE).toString(), "-1", "-00001", "-" + count,
-                    count.add(round).toString(), round.shiftLeft(64).toString(), "9".repeat(200), "-" + "9".repeat(199), "1" + "0".repeat(199)}) {
+                for (String none : new String[] {count.toString(), "+" + count, count.add(BigInteger.ONE).toString(), "-1", "-00001",
+                    "-" + count, count.add(round).toString(), round.shiftLeft(64).toString(), "9".repeat(200), "-" + "9".repeat(199),
+                    "1" + "0".repeat(199)}) {
                     fresh();
                     put(none);
                     refuses(NONE, c -> c.unrank(4, (Character) each[0], (Integer) each[1], 1));
@@ -269,8 +278,8 @@ public final class BoundariesOfFigureCalls extends BoundaryBench {
                     }
                 }
             }
-            for (String none : new String[] {"2147483648", "4294967296", "9223372036854775807", "9223372036854775808", "18446744073709551616",
-                "18446744073709551619", "-9223372036854775808", "-18446744073709551613"}) {
+            for (String none : new String[] {"2147483648", "4294967296", "9223372036854775807", "9223372036854775808",
+                "18446744073709551616", "18446744073709551619", "-9223372036854775808", "-18446744073709551613"}) {
                 fresh();
                 put(none);
                 refuses(NONE, c -> c.unrank(4, 'a', 5, 0));
@@ -281,9 +290,10 @@ public final class BoundariesOfFigureCalls extends BoundaryBench {
         private static void draws() {
             sentence("Lets a slot become the figure of a family whose rank is the remainder of a number by the count, from 0 on,"
                     + " also for one below 0.");
-            Object[][] told = {{'a', 5, 0L, "0"}, {'a', 5, 6L, "6"}, {'a', 5, 7L, "0"}, {'a', 5, 8L, "1"}, {'a', 5, -1L, "6"}, {'a', 5, -6L, "1"},
-                {'a', 5, -7L, "0"}, {'a', 5, -8L, "6"}, {'a', 0, 0L, "0"}, {'a', 0, -5L, "0"}, {'t', 1, -1L, "0"}, {'t', 2, Long.MIN_VALUE, "0"},
-                {'v', 0, Long.MAX_VALUE, "0"}, {'s', 25, 4638590332229999352L, "4638590332229999352"}, {'s', 25, 4638590332229999353L, "0"},
+            Object[][] told = {{'a', 5, 0L, "0"}, {'a', 5, 6L, "6"}, {'a', 5, 7L, "0"}, {'a', 5, 8L, "1"},
+                {'a', 5, -1L, "6"}, {'a', 5, -6L, "1"}, {'a', 5, -7L, "0"}, {'a', 5, -8L, "6"}, {'a', 0, 0L, "0"},
+                {'a', 0, -5L, "0"}, {'t', 1, -1L, "0"}, {'t', 2, Long.MIN_VALUE, "0"}, {'v', 0, Long.MAX_VALUE, "0"},
+                {'s', 25, 4638590332229999352L, "4638590332229999352"}, {'s', 25, 4638590332229999353L, "0"},
                 {'s', 25, -4638590332229999353L, "0"}, {'s', 25, -1L, "4638590332229999352"}};
             for (Object[] each : told) {
                 drawnIs((Character) each[0], (Integer) each[1], (Long) each[2], (String) each[3]);
@@ -291,7 +301,8 @@ public final class BoundariesOfFigureCalls extends BoundaryBench {
             for (char family : FAMILIES.toCharArray()) {
                 for (int n : new int[] {least(family) + 1, 3, greatest(family)}) {
                     BigInteger count = new BigInteger(countOf(family, n, 2));
-                    for (long number : new long[] {0, 1, -1, 1000003, -1000003, Integer.MAX_VALUE, 1L << 32, Long.MAX_VALUE, Long.MIN_VALUE}) {
+                    for (long number : new long[] {0, 1, -1, 1000003, -1000003, Integer.MAX_VALUE, 1L << 32,
+                        Long.MAX_VALUE, Long.MIN_VALUE}) {
                         if (count.signum() > 0) {
                             drawnIs(family, n, number, BigInteger.valueOf(number).mod(count).toString());
                         }
@@ -348,10 +359,11 @@ public final class BoundariesOfFigureCalls extends BoundaryBench {
 
         private static void readAnswers() {
             sentence("Returns how many numbers its row has, or -1 less the fault.");
-            Object[][] told = {{'a', 0, "", 0}, {'a', 5, "", -1}, {'a', 5, "x", -1}, {'a', 5, "5", 1}, {'a', 5, "4", -2}, {'a', 5, "1,1,1,1,1", 5},
-                {'a', 60, "1" + ",1".repeat(59), 60}, {'a', 60, "1" + ",1".repeat(58), -118}, {'a', 60, "1" + ",1".repeat(60), -120},
-                {'s', 25, "0".repeat(200), -201}, {'a', 5, "0".repeat(199) + "5", 1}, {'a', 5, "0".repeat(198) + "5x", -200}, {'v', 0, "0", 1},
-                {'v', 0, "1", -1}, {'v', 20, "1" + ",1".repeat(19) + ",0".repeat(21), 41}};
+            Object[][] told = {{'a', 0, "", 0}, {'a', 5, "", -1}, {'a', 5, "x", -1}, {'a', 5, "5", 1}, {'a', 5, "4", -2},
+                {'a', 5, "1,1,1,1,1", 5}, {'a', 60, "1" + ",1".repeat(59), 60}, {'a', 60, "1" + ",1".repeat(58), -118},
+                {'a', 60, "1" + ",1".repeat(60), -120}, {'s', 25, "0".repeat(200), -201}, {'a', 5, "0".repeat(199) + "5", 1},
+                {'a', 5, "0".repeat(198) + "5x", -200}, {'v', 0, "0", 1}, {'v', 0, "1", -1},
+                {'v', 20, "1" + ",1".repeat(19) + ",0".repeat(21), 41}};
             for (Object[] each : told) {
                 fresh();
                 put((String) each[2]);
@@ -445,8 +457,9 @@ public final class BoundariesOfFigureCalls extends BoundaryBench {
 
         private static void tells() {
             sentence("Puts the row of a figure into the text.");
-            Object[][] told = {{'a', 0, 0, ""}, {'v', 0, 0, "0"}, {'a', 9, 0, "9"}, {'a', 10, 0, "10"}, {'a', 60, 0, "60"}, {'a', 19, 0, "10,9"},
-                {'a', 3, 0, "2,1"}, {'u', 40, 4, "0,9,10,39"}, {'t', 4, 0, "0,0"}, {'a', 60, 0, "20,20,20"}};
+            Object[][] told = {{'a', 0, 0, ""}, {'v', 0, 0, "0"}, {'a', 9, 0, "9"}, {'a', 10, 0, "10"}, {'a', 60, 0, "60"},
+                {'a', 19, 0, "10,9"}, {'a', 3, 0, "2,1"}, {'u', 40, 4, "0,9,10,39"}, {'t', 4, 0, "0,0"},
+                {'a', 60, 0, "20,20,20"}};
             for (Object[] each : told) {
                 fresh();
                 hold(9, (Character) each[0], (Integer) each[1], (Integer) each[2], (String) each[3]);
@@ -473,8 +486,8 @@ public final class BoundariesOfFigureCalls extends BoundaryBench {
 
         private static void ranks() {
             sentence("Puts the rank of a figure into the text.");
-            Object[][] told = {{'a', 0, ""}, {'a', 5, "5"}, {'d', 6, "3,2,1"}, {'t', 1, ""}, {'t', 2, ""}, {'v', 0, "0"}, {'b', 3, "0,1,0,1,0,1"},
-                {'s', 4, "0,0,0,0"}, {'t', 4, "3,3"}, {'o', 6, "5,1"}};
+            Object[][] told = {{'a', 0, ""}, {'a', 5, "5"}, {'d', 6, "3,2,1"}, {'t', 1, ""}, {'t', 2, ""}, {'v', 0, "0"},
+                {'b', 3, "0,1,0,1,0,1"}, {'s', 4, "0,0,0,0"}, {'t', 4, "3,3"}, {'o', 6, "5,1"}};
             String[] due = {"0", "6", "0", "0", "0", "0", "4", "0", "15", "3"};
             for (int i = 0; i < due.length; i++) {
                 Object[] each = told[i];
@@ -513,8 +526,9 @@ public final class BoundariesOfFigureCalls extends BoundaryBench {
 
         private static void lengths() {
             sentence("Returns how many numbers the row of a figure has.");
-            Object[][] told = {{'a', 0, 0, 0}, {'a', 1, 0, 1}, {'a', 60, 0, 60}, {'v', 0, 0, 1}, {'v', 20, 0, 41}, {'b', 20, 0, 40}, {'t', 1, 0, 0},
-                {'t', 2, 0, 0}, {'t', 3, 0, 1}, {'t', 20, 0, 18}, {'u', 40, 0, 0}, {'u', 40, 40, 40}, {'s', 25, 0, 25}, {'c', 60, 60, 60}, {'c', 60, 1, 1}};
+            Object[][] told = {{'a', 0, 0, 0}, {'a', 1, 0, 1}, {'a', 60, 0, 60}, {'v', 0, 0, 1}, {'v', 20, 0, 41},
+                {'b', 20, 0, 40}, {'t', 1, 0, 0}, {'t', 2, 0, 0}, {'t', 3, 0, 1}, {'t', 20, 0, 18}, {'u', 40, 0, 0},
+                {'u', 40, 40, 40}, {'s', 25, 0, 25}, {'c', 60, 60, 60}, {'c', 60, 1, 1}};
             for (Object[] each : told) {
                 fresh();
                 make(9, (Character) each[0], (Integer) each[1], (Integer) each[2]);
@@ -540,7 +554,8 @@ public final class BoundariesOfFigureCalls extends BoundaryBench {
                 int empty = slot;
                 refuses(NONE, c -> c.at(empty, 0));
             }
-            for (Object[] each : new Object[][] {{'a', 0, 0}, {'v', 0, 1}, {'a', 1, 1}, {'a', 60, 60}, {'t', 1, 0}, {'t', 2, 0}, {'t', 3, 1}, {'v', 20, 41}}) {
+            for (Object[] each : new Object[][] {{'a', 0, 0}, {'v', 0, 1}, {'a', 1, 1}, {'a', 60, 60}, {'t', 1, 0},
+                {'t', 2, 0}, {'t', 3, 1}, {'v', 20, 41}}) {
                 int length = (Integer) each[2];
                 fresh();
                 make(9, (Character) each[0], (Integer) each[1], 0);

@@ -357,11 +357,12 @@ public final class BoundariesOfKeeping extends BoundaryBench {
             make(4, 't', 3, 1);
             put("x");
             List<Call> others = List.of(c -> c.count('a', 3, 0), c -> c.read(0, 'a', 3, 0), c -> c.tell(0), c -> c.rank(0),
-                    c -> c.compare(0, 0), c -> c.family(0), c -> c.length(0), c -> c.at(0, 0), c -> c.type('x'), c -> c.erase(),
-                    c -> c.signAt(0), c -> c.square(0), c -> c.excess(0), c -> c.crank(0), c -> c.often(0, 1), c -> c.hook(0, 0, 0),
-                    c -> c.fillings(0), c -> c.isOver(0, 0), c -> c.blocks(1), c -> c.isFiner(1, 1), c -> c.doorRank(2),
-                    c -> c.deepest(3), c -> c.triangles(3, 0), c -> c.degree(4, 0), c -> c.far(4, 0, 1), c -> c.tables(0, 0),
-                    c -> c.corner(0, 0, 0, 0), c -> c.isBinary(0, 0), c -> c.held(), c -> c.checksum(), c -> c.isSound());
+                    c -> c.compare(0, 0), c -> c.family(0), c -> c.length(0), c -> c.at(0, 0), c -> c.type('x'),
+                    c -> c.erase(), c -> c.signAt(0), c -> c.square(0), c -> c.excess(0), c -> c.crank(0),
+                    c -> c.often(0, 1), c -> c.hook(0, 0, 0), c -> c.fillings(0), c -> c.isOver(0, 0), c -> c.blocks(1),
+                    c -> c.isFiner(1, 1), c -> c.doorRank(2), c -> c.deepest(3), c -> c.triangles(3, 0),
+                    c -> c.degree(4, 0), c -> c.far(4, 0, 1), c -> c.tables(0, 0), c -> c.corner(0, 0, 0, 0),
+                    c -> c.isBinary(0, 0), c -> c.held(), c -> c.checksum(), c -> c.isSound());
             for (Call call : others) {
                 PartitionCabinet c = twin();
                 PartitionCabinet was = twin();
@@ -412,17 +413,19 @@ public final class BoundariesOfKeeping extends BoundaryBench {
                     refusesAll(INDEX, slotCalls(slot));
                 }
                 refusesAll(NONE, slotCalls(8));
-                refusesAll(UNFIT, List.of(c -> c.turn(1), c -> c.square(1), c -> c.excess(1), c -> c.crank(1), c -> c.match(0),
-                        c -> c.hook(1, 0, 0), c -> c.fillings(1), c -> c.isOver(0, 1), c -> c.blocks(0), c -> c.join(0, 0, 1),
-                        c -> c.meet(0, 0, 1), c -> c.isFiner(0, 1), c -> c.door(0), c -> c.doorRank(0), c -> c.branch(0),
-                        c -> c.deepest(0), c -> c.triangles(0, 0), c -> c.degree(0, 0), c -> c.far(0, 0, 0), c -> c.isBinary(0, 1)));
-                refusesAll(ARGUMENT, List.of(c -> c.count('x', 1, 1), c -> c.make(0, 'x', 1, 1), c -> c.draw(0, 'x', 1, 1, 1),
-                        c -> c.read(0, 'x', 1, 1), c -> c.compare(0, 1), c -> c.type((char) 127), c -> c.signAt(200), c -> c.isOver(0, 6),
-                        c -> c.join(0, 1, 9), c -> c.meet(0, 1, 9), c -> c.isFiner(1, 9), c -> c.triangles(3, 4), c -> c.degree(4, 5),
-                        c -> c.far(4, 0, 5), c -> c.tables(0, 6), c -> c.tables(5, 5), c -> c.tables(6, 6), c -> c.corner(0, 6, 0, 0),
-                        c -> c.isBinary(0, 6)));
-                refusesAll(NONE, List.of(c -> c.make(0, 'l', 1, 0), c -> c.draw(0, 'l', 1, 0, 5), c -> c.at(0, 3), c -> c.hook(0, 0, 4),
-                        c -> c.corner(0, 0, 3, 0)));
+                refusesAll(UNFIT, List.of(c -> c.turn(1), c -> c.square(1), c -> c.excess(1), c -> c.crank(1),
+                        c -> c.match(0), c -> c.hook(1, 0, 0), c -> c.fillings(1), c -> c.isOver(0, 1), c -> c.blocks(0),
+                        c -> c.join(0, 0, 1), c -> c.meet(0, 0, 1), c -> c.isFiner(0, 1), c -> c.door(0),
+                        c -> c.doorRank(0), c -> c.branch(0), c -> c.deepest(0), c -> c.triangles(0, 0),
+                        c -> c.degree(0, 0), c -> c.far(0, 0, 0), c -> c.isBinary(0, 1)));
+                refusesAll(ARGUMENT, List.of(c -> c.count('x', 1, 1), c -> c.make(0, 'x', 1, 1),
+                        c -> c.draw(0, 'x', 1, 1, 1), c -> c.read(0, 'x', 1, 1), c -> c.compare(0, 1),
+                        c -> c.type((char) 127), c -> c.signAt(200), c -> c.isOver(0, 6), c -> c.join(0, 1, 9),
+                        c -> c.meet(0, 1, 9), c -> c.isFiner(1, 9), c -> c.triangles(3, 4), c -> c.degree(4, 5),
+                        c -> c.far(4, 0, 5), c -> c.tables(0, 6), c -> c.tables(5, 5), c -> c.tables(6, 6),
+                        c -> c.corner(0, 6, 0, 0), c -> c.isBinary(0, 6)));
+                refusesAll(NONE, List.of(c -> c.make(0, 'l', 1, 0), c -> c.draw(0, 'l', 1, 0, 5), c -> c.at(0, 3),
+                        c -> c.hook(0, 0, 4), c -> c.corner(0, 0, 3, 0)));
             }
             busy("x");
             refuses(NUMBER, c -> c.unrank(0, 'a', 5, 0));
@@ -461,18 +464,21 @@ public final class BoundariesOfKeeping extends BoundaryBench {
 
         /** Each call with a slot, which is told; whatever else could be refused is fine. */
         private static List<Call> slotCalls(int slot) {
-            List<Call> all = new ArrayList<>(List.of(c -> c.copy(0, slot), c -> c.tell(slot), c -> c.rank(slot), c -> c.next(slot),
-                    c -> c.previous(slot), c -> c.skip(slot, 1), c -> c.compare(slot, 0), c -> c.compare(0, slot), c -> c.family(slot),
-                    c -> c.length(slot), c -> c.at(slot, 0), c -> c.turn(slot), c -> c.square(slot), c -> c.excess(slot),
-                    c -> c.crank(slot), c -> c.match(slot), c -> c.often(slot, 1), c -> c.hook(slot, 0, 0), c -> c.fillings(slot),
-                    c -> c.isOver(slot, 0), c -> c.isOver(0, slot), c -> c.blocks(slot), c -> c.join(0, slot, 1), c -> c.join(0, 1, slot),
+            List<Call> all = new ArrayList<>(List.of(c -> c.copy(0, slot), c -> c.tell(slot), c -> c.rank(slot),
+                    c -> c.next(slot), c -> c.previous(slot), c -> c.skip(slot, 1), c -> c.compare(slot, 0),
+                    c -> c.compare(0, slot), c -> c.family(slot), c -> c.length(slot), c -> c.at(slot, 0),
+                    c -> c.turn(slot), c -> c.square(slot), c -> c.excess(slot), c -> c.crank(slot), c -> c.match(slot),
+                    c -> c.often(slot, 1), c -> c.hook(slot, 0, 0), c -> c.fillings(slot), c -> c.isOver(slot, 0),
+                    c -> c.isOver(0, slot), c -> c.blocks(slot), c -> c.join(0, slot, 1), c -> c.join(0, 1, slot),
                     c -> c.meet(0, slot, 1), c -> c.meet(0, 1, slot), c -> c.isFiner(slot, 1), c -> c.isFiner(1, slot),
-                    c -> c.door(slot), c -> c.doorRank(slot), c -> c.branch(slot), c -> c.deepest(slot), c -> c.triangles(slot, 0),
-                    c -> c.degree(slot, 0), c -> c.far(slot, 0, 0), c -> c.tables(slot, 0), c -> c.tables(0, slot),
-                    c -> c.corner(slot, 0, 0, 0), c -> c.corner(0, slot, 0, 0), c -> c.isBinary(slot, 0), c -> c.isBinary(0, slot)));
+                    c -> c.door(slot), c -> c.doorRank(slot), c -> c.branch(slot), c -> c.deepest(slot),
+                    c -> c.triangles(slot, 0), c -> c.degree(slot, 0), c -> c.far(slot, 0, 0), c -> c.tables(slot, 0),
+                    c -> c.tables(0, slot), c -> c.corner(slot, 0, 0, 0), c -> c.corner(0, slot, 0, 0),
+                    c -> c.isBinary(slot, 0), c -> c.isBinary(0, slot)));
             if (slot < 0 || slot > 9) {
-                all.addAll(List.of(c -> c.make(slot, 'a', 5, 0), c -> c.unrank(slot, 'a', 5, 0), c -> c.draw(slot, 'a', 5, 0, 0),
-                        c -> c.read(slot, 'a', 5, 0), c -> c.copy(slot, 0), c -> c.join(slot, 1, 1), c -> c.meet(slot, 1, 1)));
+                all.addAll(List.of(c -> c.make(slot, 'a', 5, 0), c -> c.unrank(slot, 'a', 5, 0),
+                        c -> c.draw(slot, 'a', 5, 0, 0), c -> c.read(slot, 'a', 5, 0), c -> c.copy(slot, 0),
+                        c -> c.join(slot, 1, 1), c -> c.meet(slot, 1, 1)));
             }
             return all;
         }
@@ -484,17 +490,19 @@ public final class BoundariesOfKeeping extends BoundaryBench {
             firstOfUnrank();
             busy("0");
             for (int none : new int[] {-1, 10}) {
-                refusesAll(INDEX, List.of(c -> c.copy(none, 8), c -> c.copy(8, none), c -> c.copy(none, none), c -> c.at(none, -1),
-                        c -> c.compare(none, 8), c -> c.compare(8, none), c -> c.compare(none, 0), c -> c.hook(none, -1, -1),
-                        c -> c.triangles(none, -1), c -> c.degree(none, -1), c -> c.far(none, -1, -1), c -> c.tables(none, 8),
-                        c -> c.tables(8, none), c -> c.tables(5, none), c -> c.corner(none, 8, -1, -1), c -> c.corner(8, none, -1, -1),
-                        c -> c.corner(0, none, -1, -1), c -> c.corner(none, 6, 0, 0)));
+                refusesAll(INDEX, List.of(c -> c.copy(none, 8), c -> c.copy(8, none), c -> c.copy(none, none),
+                        c -> c.at(none, -1), c -> c.compare(none, 8), c -> c.compare(8, none), c -> c.compare(none, 0),
+                        c -> c.hook(none, -1, -1), c -> c.triangles(none, -1), c -> c.degree(none, -1),
+                        c -> c.far(none, -1, -1), c -> c.tables(none, 8), c -> c.tables(8, none), c -> c.tables(5, none),
+                        c -> c.corner(none, 8, -1, -1), c -> c.corner(8, none, -1, -1), c -> c.corner(0, none, -1, -1),
+                        c -> c.corner(none, 6, 0, 0)));
                 firstOfPairs(INDEX, none, 8);
                 firstOfPairs(INDEX, none, 2);
                 firstOfPairs(INDEX, none, 0);
                 firstOfPairs(INDEX, none, 1);
-                refusesAll(INDEX, List.of(c -> c.join(none, 8, 8), c -> c.join(none, 2, 2), c -> c.join(none, 1, 9), c -> c.meet(none, 8, 8),
-                        c -> c.meet(none, 2, 2), c -> c.meet(none, 1, 9), c -> c.join(none, none, none), c -> c.meet(none, 8, 2)));
+                refusesAll(INDEX, List.of(c -> c.join(none, 8, 8), c -> c.join(none, 2, 2), c -> c.join(none, 1, 9),
+                        c -> c.meet(none, 8, 8), c -> c.meet(none, 2, 2), c -> c.meet(none, 1, 9),
+                        c -> c.join(none, none, none), c -> c.meet(none, 8, 2)));
             }
             firstOfPairs(NONE, 8, 2);
             firstOfPairs(NONE, 8, 0);
@@ -505,11 +513,13 @@ public final class BoundariesOfKeeping extends BoundaryBench {
             firstOfPairs(UNFIT, 2, 2);
             firstOfPairs(UNFIT, 2, 6);
             firstOfPairs(UNFIT, 2, 9);
-            refusesAll(NONE, List.of(c -> c.at(8, -1), c -> c.compare(8, 0), c -> c.hook(8, -1, -1), c -> c.triangles(8, -1), c -> c.degree(8, -1),
-                    c -> c.far(8, -1, -1), c -> c.tables(8, 5), c -> c.tables(5, 8), c -> c.corner(8, 6, -1, -1), c -> c.corner(0, 6, 3, 0),
-                    c -> c.corner(0, 6, 0, 2), c -> c.corner(0, 6, -1, 0), c -> c.corner(0, 6, 0, -1)));
-            refusesAll(UNFIT, List.of(c -> c.hook(1, -1, -1), c -> c.hook(1, 99, 0), c -> c.triangles(0, -1), c -> c.triangles(0, 99),
-                    c -> c.degree(0, -1), c -> c.degree(0, 99), c -> c.far(0, -1, 0), c -> c.far(0, 0, 99)));
+            refusesAll(NONE, List.of(c -> c.at(8, -1), c -> c.compare(8, 0), c -> c.hook(8, -1, -1),
+                    c -> c.triangles(8, -1), c -> c.degree(8, -1), c -> c.far(8, -1, -1), c -> c.tables(8, 5),
+                    c -> c.tables(5, 8), c -> c.corner(8, 6, -1, -1), c -> c.corner(0, 6, 3, 0), c -> c.corner(0, 6, 0, 2),
+                    c -> c.corner(0, 6, -1, 0), c -> c.corner(0, 6, 0, -1)));
+            refusesAll(UNFIT, List.of(c -> c.hook(1, -1, -1), c -> c.hook(1, 99, 0), c -> c.triangles(0, -1),
+                    c -> c.triangles(0, 99), c -> c.degree(0, -1), c -> c.degree(0, 99), c -> c.far(0, -1, 0),
+                    c -> c.far(0, 0, 99)));
             busy("9".repeat(200));
             refuses(ARGUMENT, c -> c.type((char) 31));
             refuses(ARGUMENT, c -> c.type((char) 127));
@@ -518,16 +528,17 @@ public final class BoundariesOfKeeping extends BoundaryBench {
 
         private static void firstOfPairs(Class<?> due, int one, int other) {
             refusesAll(due, List.of(c -> c.isOver(one, other), c -> c.isOver(other, one), c -> c.isBinary(one, other),
-                    c -> c.isBinary(other, one), c -> c.isFiner(one, other), c -> c.isFiner(other, one), c -> c.join(0, one, other),
-                    c -> c.join(0, other, one), c -> c.meet(0, one, other), c -> c.meet(0, other, one)));
+                    c -> c.isBinary(other, one), c -> c.isFiner(one, other), c -> c.isFiner(other, one),
+                    c -> c.join(0, one, other), c -> c.join(0, other, one), c -> c.meet(0, one, other),
+                    c -> c.meet(0, other, one)));
         }
 
         private static void firstOfFamilies() {
             for (int none : NO_SLOTS) {
-                refusesAll(INDEX, List.of(c -> c.make(none, 'x', 1, 1), c -> c.make(none, 'a', 61, 0), c -> c.make(none, 'l', 1, 0),
-                        c -> c.make(none, 'a', 1, -1), c -> c.draw(none, 'x', 1, 1, 1), c -> c.draw(none, 'a', 61, 0, 1),
-                        c -> c.draw(none, 'l', 1, 0, 1), c -> c.read(none, 'x', 1, 1), c -> c.read(none, 'a', 61, 0),
-                        c -> c.read(none, 'a', 1, 61)));
+                refusesAll(INDEX, List.of(c -> c.make(none, 'x', 1, 1), c -> c.make(none, 'a', 61, 0),
+                        c -> c.make(none, 'l', 1, 0), c -> c.make(none, 'a', 1, -1), c -> c.draw(none, 'x', 1, 1, 1),
+                        c -> c.draw(none, 'a', 61, 0, 1), c -> c.draw(none, 'l', 1, 0, 1), c -> c.read(none, 'x', 1, 1),
+                        c -> c.read(none, 'a', 61, 0), c -> c.read(none, 'a', 1, 61)));
             }
             // none has them, and a number is out of range
             for (int[] numbers : new int[][] {{61, 0}, {-1, 0}, {1, 61}, {1, -1}, {2, 61}}) {
@@ -541,15 +552,17 @@ public final class BoundariesOfKeeping extends BoundaryBench {
         private static void firstOfUnrank() {
             for (String signs : new String[] {"", "x", "+", "9".repeat(199) + "x"}) {
                 busy(signs);
-                refusesAll(INDEX, List.of(c -> c.unrank(10, 'a', 5, 0), c -> c.unrank(-1, 'x', 5, 0), c -> c.unrank(10, 'l', 1, 0)));
-                refusesAll(NUMBER, List.of(c -> c.unrank(0, 'x', 5, 0), c -> c.unrank(0, 'a', 61, 0), c -> c.unrank(0, 'a', 5, 61),
-                        c -> c.unrank(0, 'l', 1, 0), c -> c.unrank(0, 't', 0, 0)));
+                refusesAll(INDEX, List.of(c -> c.unrank(10, 'a', 5, 0), c -> c.unrank(-1, 'x', 5, 0),
+                        c -> c.unrank(10, 'l', 1, 0)));
+                refusesAll(NUMBER, List.of(c -> c.unrank(0, 'x', 5, 0), c -> c.unrank(0, 'a', 61, 0),
+                        c -> c.unrank(0, 'a', 5, 61), c -> c.unrank(0, 'l', 1, 0), c -> c.unrank(0, 't', 0, 0)));
             }
             for (String signs : new String[] {"-1", "999", "9".repeat(200)}) {
                 busy(signs);
-                refusesAll(INDEX, List.of(c -> c.unrank(10, 'a', 5, 0), c -> c.unrank(-1, 'x', 5, 0), c -> c.unrank(10, 'l', 1, 0)));
-                refusesAll(ARGUMENT, List.of(c -> c.unrank(0, 'x', 5, 0), c -> c.unrank(0, 'a', 61, 0), c -> c.unrank(0, 'a', 5, 61),
-                        c -> c.unrank(0, 'l', 61, 0), c -> c.unrank(0, 't', 0, 0)));
+                refusesAll(INDEX, List.of(c -> c.unrank(10, 'a', 5, 0), c -> c.unrank(-1, 'x', 5, 0),
+                        c -> c.unrank(10, 'l', 1, 0)));
+                refusesAll(ARGUMENT, List.of(c -> c.unrank(0, 'x', 5, 0), c -> c.unrank(0, 'a', 61, 0),
+                        c -> c.unrank(0, 'a', 5, 61), c -> c.unrank(0, 'l', 61, 0), c -> c.unrank(0, 't', 0, 0)));
                 refusesAll(NONE, List.of(c -> c.unrank(0, 'a', 5, 0), c -> c.unrank(0, 'l', 1, 0)));
             }
         }

@@ -72,8 +72,8 @@ public final class BoundariesOfSetCalls extends BoundaryBench {
 
         private static void squares() {
             sentence("Returns the square.");
-            for (Object[] each : new Object[][] {{0, "", 0}, {1, "1", 1}, {4, "2,2", 2}, {3, "2,1", 1}, {49, "7,7,7,7,7,7,7", 7}, {48, "7,7,7,7,7,7,6", 6},
-                {60, "60", 1}}) {
+            for (Object[] each : new Object[][] {{0, "", 0}, {1, "1", 1}, {4, "2,2", 2}, {3, "2,1", 1},
+                {49, "7,7,7,7,7,7,7", 7}, {48, "7,7,7,7,7,7,6", 6}, {60, "60", 1}}) {
                 fresh();
                 hold(9, 'l', (Integer) each[0], 60, (String) each[1]);
                 answers(each[2], c -> c.square(9));
@@ -82,7 +82,8 @@ public final class BoundariesOfSetCalls extends BoundaryBench {
 
         private static void excesses() {
             sentence("Returns the excess.");
-            for (Object[] each : new Object[][] {{0, "", 0}, {1, "1", 0}, {60, "60", 59}, {60, "1" + ",1".repeat(59), -59}, {2, "1,1", -1}}) {
+            for (Object[] each : new Object[][] {{0, "", 0}, {1, "1", 0}, {60, "60", 59}, {60, "1" + ",1".repeat(59), -59},
+                {2, "1,1", -1}}) {
                 fresh();
                 hold(9, 'g', (Integer) each[0], 60, (String) each[1]);
                 answers(each[2], c -> c.excess(9));
@@ -91,8 +92,9 @@ public final class BoundariesOfSetCalls extends BoundaryBench {
 
         private static void cranks() {
             sentence("Returns the crank.");
-            for (Object[] each : new Object[][] {{0, "", 0}, {1, "1", -1}, {2, "2", 2}, {60, "60", 60}, {60, "1" + ",1".repeat(59), -60}, {60, "59,1", 0},
-                {60, "58,2", 58}, {3, "2,1", 0}, {4, "2,1,1", -2}, {5, "3,1,1", -1}}) {
+            for (Object[] each : new Object[][] {{0, "", 0}, {1, "1", -1}, {2, "2", 2}, {60, "60", 60},
+                {60, "1" + ",1".repeat(59), -60}, {60, "59,1", 0}, {60, "58,2", 58}, {3, "2,1", 0}, {4, "2,1,1", -2},
+                {5, "3,1,1", -1}}) {
                 fresh();
                 hold(9, 'l', (Integer) each[0], 60, (String) each[1]);
                 answers(each[2], c -> c.crank(9));
@@ -120,9 +122,9 @@ public final class BoundariesOfSetCalls extends BoundaryBench {
 
         private static void matchLengths() {
             sentence("Returns how many parts it has then.");
-            for (Object[] each : new Object[][] {{'d', 0, "", 0}, {'o', 0, "", 0}, {'d', 1, "1", 1}, {'d', 2, "2", 2}, {'d', 60, "32,16,8,4", 60},
-                {'o', 60, "1" + ",1".repeat(59), 4}, {'o', 32, "1" + ",1".repeat(31), 1}, {'o', 31, "1" + ",1".repeat(30), 5}, {'d', 59, "59", 1},
-                {'o', 6, "3,3", 1}, {'o', 9, "3,3,3", 2}}) {
+            for (Object[] each : new Object[][] {{'d', 0, "", 0}, {'o', 0, "", 0}, {'d', 1, "1", 1}, {'d', 2, "2", 2},
+                {'d', 60, "32,16,8,4", 60}, {'o', 60, "1" + ",1".repeat(59), 4}, {'o', 32, "1" + ",1".repeat(31), 1},
+                {'o', 31, "1" + ",1".repeat(30), 5}, {'d', 59, "59", 1}, {'o', 6, "3,3", 1}, {'o', 9, "3,3,3", 2}}) {
                 fresh();
                 hold(9, (Character) each[0], (Integer) each[1], 0, (String) each[2]);
                 answers(each[3], c -> c.match(9));
@@ -140,8 +142,9 @@ public final class BoundariesOfSetCalls extends BoundaryBench {
             make(3, 's', 25, 0);
             make(4, 'v', 20, 0);
             make(5, 't', 20, 0);
-            for (Object[] each : new Object[][] {{0, 1, 60}, {0, 0, 0}, {0, 2, 0}, {0, 60, 0}, {1, 0, 0}, {1, 1, 0}, {2, 0, 1}, {2, 20, 1}, {2, 39, 1},
-                {2, 40, 0}, {2, 1, 0}, {3, 0, 25}, {3, 1, 0}, {4, 0, 21}, {4, 1, 20}, {5, 0, 18}, {2, -1, 0}, {2, LEAST, 0}, {2, GREATEST, 0}, {1, -1, 0}}) {
+            for (Object[] each : new Object[][] {{0, 1, 60}, {0, 0, 0}, {0, 2, 0}, {0, 60, 0}, {1, 0, 0}, {1, 1, 0},
+                {2, 0, 1}, {2, 20, 1}, {2, 39, 1}, {2, 40, 0}, {2, 1, 0}, {3, 0, 25}, {3, 1, 0}, {4, 0, 21}, {4, 1, 20},
+                {5, 0, 18}, {2, -1, 0}, {2, LEAST, 0}, {2, GREATEST, 0}, {1, -1, 0}}) {
                 answers(each[2], c -> c.often((Integer) each[0], (Integer) each[1]));
             }
             noSuchSlot('t', (c, slot) -> c.often(slot, 0));
@@ -178,7 +181,8 @@ public final class BoundariesOfSetCalls extends BoundaryBench {
         }
 
         private static void noSuchHook() {
-            sentence("Throws `NoSuchElementException` if that slot holds none, or its partition, if it is one, has no such place");
+            sentence("Throws `NoSuchElementException` if that slot holds none, or its partition, if it is one, has no such"
+                    + " place");
             for (int slot = 0; slot < 10; slot++) {
                 int empty = slot;
                 refuses(NONE, c -> c.hook(empty, 0, 0));
@@ -222,10 +226,11 @@ public final class BoundariesOfSetCalls extends BoundaryBench {
         private static void fillings() {
             section("Promise 28");
             plain("the slot");
-            sentence("Puts how many fillings a partition has into the text: tables of its places with the numbers from 1 to n, each"
-                    + " once, that rise along each row and down each column.");
-            for (Object[] each : new Object[][] {{0, "", "1"}, {1, "1", "1"}, {2, "2", "1"}, {2, "1,1", "1"}, {3, "2,1", "2"}, {4, "2,2", "2"}, {5, "3,2", "5"},
-                {6, "3,2,1", "16"}, {60, "60", "1"}, {60, "1" + ",1".repeat(59), "1"}, {60, "59,1", "59"}, {60, "30,30", "3814986502092304"},
+            sentence("Puts how many fillings a partition has into the text: tables of its places with the numbers from 1 to n,"
+                    + " each once, that rise along each row and down each column.");
+            for (Object[] each : new Object[][] {{0, "", "1"}, {1, "1", "1"}, {2, "2", "1"}, {2, "1,1", "1"},
+                {3, "2,1", "2"}, {4, "2,2", "2"}, {5, "3,2", "5"}, {6, "3,2,1", "16"}, {60, "60", "1"},
+                {60, "1" + ",1".repeat(59), "1"}, {60, "59,1", "59"}, {60, "30,30", "3814986502092304"},
                 {20, "6,5,4,3,2", "141892608"}}) {
                 fresh();
                 hold(9, 'a', (Integer) each[0], 0, (String) each[1]);
@@ -234,7 +239,8 @@ public final class BoundariesOfSetCalls extends BoundaryBench {
                 textIs((String) each[2]);
             }
             sentence("Returns how many signs the text has then.");
-            for (Object[] each : new Object[][] {{0, "", 1}, {1, "1", 1}, {10, "9,1", 1}, {11, "10,1", 2}, {60, "30,30", 16}, {60, "60", 1}}) {
+            for (Object[] each : new Object[][] {{0, "", 1}, {1, "1", 1}, {10, "9,1", 1}, {11, "10,1", 2}, {60, "30,30", 16},
+                {60, "60", 1}}) {
                 fresh();
                 hold(9, 'a', (Integer) each[0], 0, (String) each[1]);
                 put("9".repeat(200));
@@ -249,9 +255,11 @@ public final class BoundariesOfSetCalls extends BoundaryBench {
             section("Promise 29");
             plain("the one", "the other one", "Tells whether one partition dominates another one.");
             sentence("Returns true if so.");
-            for (Object[] each : new Object[][] {{0, "", "", true, true}, {1, "1", "1", true, true}, {2, "2", "1,1", true, false}, {6, "4,1,1", "3,3", false, false},
-                {6, "3,3", "3,2,1", true, false}, {60, "60", "59,1", true, false}, {60, "2" + ",1".repeat(58), "1" + ",1".repeat(59), true, false},
-                {60, "30,30", "30,30", true, true}, {7, "3,3,1", "3,2,2", true, false}, {8, "3,3,2", "4,1,1,1,1", false, false}}) {
+            for (Object[] each : new Object[][] {{0, "", "", true, true}, {1, "1", "1", true, true},
+                {2, "2", "1,1", true, false}, {6, "4,1,1", "3,3", false, false}, {6, "3,3", "3,2,1", true, false},
+                {60, "60", "59,1", true, false}, {60, "2" + ",1".repeat(58), "1" + ",1".repeat(59), true, false},
+                {60, "30,30", "30,30", true, true}, {7, "3,3,1", "3,2,2", true, false},
+                {8, "3,3,2", "4,1,1,1,1", false, false}}) {
                 fresh();
                 hold(0, 'a', (Integer) each[0], 0, (String) each[1]);
                 hold(9, 'g', (Integer) each[0], 60, (String) each[2]);
@@ -278,12 +286,14 @@ public final class BoundariesOfSetCalls extends BoundaryBench {
             unfit("Throws `UnsupportedOperationException` if it is no split", "sk", (c, slot) -> c.blocks(slot));
             section("Promise 31");
             plain("the slot", "the one", "the other one");
-            becomes("Lets a slot become the join of two splits, of 's', with the k of the first one.", (c, slot, a, b) -> c.join(slot, a, b));
+            becomes("Lets a slot become the join of two splits, of 's', with the k of the first one.",
+                    (c, slot, a, b) -> c.join(slot, a, b));
             joinBlocks();
             refusals((c, slot, a, b) -> c.join(slot, a, b));
             section("Promise 32");
             plain("the slot", "the one", "the other one");
-            becomes("Lets a slot become the meet of two splits, of 's', with the k of the first one.", (c, slot, a, b) -> c.meet(slot, a, b));
+            becomes("Lets a slot become the meet of two splits, of 's', with the k of the first one.",
+                    (c, slot, a, b) -> c.meet(slot, a, b));
             meetBlocks();
             refusals((c, slot, a, b) -> c.meet(slot, a, b));
             section("Promise 33");
@@ -301,8 +311,8 @@ public final class BoundariesOfSetCalls extends BoundaryBench {
 
         private static void howMany() {
             sentence("Returns how many.");
-            for (Object[] each : new Object[][] {{'s', 0, 0, 0}, {'k', 0, 0, 0}, {'s', 1, 0, 1}, {'s', 25, 0, 1}, {'k', 25, 25, 25}, {'k', 25, 1, 1},
-                {'k', 25, 24, 24}}) {
+            for (Object[] each : new Object[][] {{'s', 0, 0, 0}, {'k', 0, 0, 0}, {'s', 1, 0, 1}, {'s', 25, 0, 1},
+                {'k', 25, 25, 25}, {'k', 25, 1, 1}, {'k', 25, 24, 24}}) {
                 fresh();
                 make(9, (Character) each[0], (Integer) each[1], (Integer) each[2]);
                 answers(each[3], c -> c.blocks(9));
@@ -344,8 +354,9 @@ public final class BoundariesOfSetCalls extends BoundaryBench {
 
         private static void joinBlocks() {
             sentence("Returns how many blocks it has.");
-            for (Object[] each : new Object[][] {{0, "", "", 0}, {1, "0", "0", 1}, {2, "0,1", "0,1", 2}, {2, "0,0", "0,1", 1}, {2, "0,1", "0,0", 1},
-                {4, "0,0,1,1", "0,1,1,2", 1}, {4, "0,0,1,1", "0,0,1,2", 2}, {5, "0,1,2,3,4", "0,1,2,3,4", 5}}) {
+            for (Object[] each : new Object[][] {{0, "", "", 0}, {1, "0", "0", 1}, {2, "0,1", "0,1", 2},
+                {2, "0,0", "0,1", 1}, {2, "0,1", "0,0", 1}, {4, "0,0,1,1", "0,1,1,2", 1}, {4, "0,0,1,1", "0,0,1,2", 2},
+                {5, "0,1,2,3,4", "0,1,2,3,4", 5}}) {
                 fresh();
                 hold(0, 's', (Integer) each[0], 0, (String) each[1]);
                 hold(1, 's', (Integer) each[0], 0, (String) each[2]);
@@ -367,8 +378,9 @@ public final class BoundariesOfSetCalls extends BoundaryBench {
 
         private static void meetBlocks() {
             sentence("Returns how many blocks it has.");
-            for (Object[] each : new Object[][] {{0, "", "", 0}, {1, "0", "0", 1}, {2, "0,0", "0,0", 1}, {2, "0,0", "0,1", 2}, {2, "0,1", "0,0", 2},
-                {4, "0,0,1,1", "0,1,1,2", 4}, {4, "0,0,1,1", "0,0,1,2", 3}, {5, "0,0,0,0,0", "0,0,0,0,0", 1}, {4, "0,0,1,1", "0,1,0,1", 4}}) {
+            for (Object[] each : new Object[][] {{0, "", "", 0}, {1, "0", "0", 1}, {2, "0,0", "0,0", 1},
+                {2, "0,0", "0,1", 2}, {2, "0,1", "0,0", 2}, {4, "0,0,1,1", "0,1,1,2", 4}, {4, "0,0,1,1", "0,0,1,2", 3},
+                {5, "0,0,0,0,0", "0,0,0,0,0", 1}, {4, "0,0,1,1", "0,1,0,1", 4}}) {
                 fresh();
                 hold(0, 's', (Integer) each[0], 0, (String) each[1]);
                 hold(1, 's', (Integer) each[0], 0, (String) each[2]);
@@ -394,9 +406,11 @@ public final class BoundariesOfSetCalls extends BoundaryBench {
 
         private static void finer() {
             sentence("Returns true if so, also if both are the same.");
-            for (Object[] each : new Object[][] {{0, "", "", true, true}, {1, "0", "0", true, true}, {3, "0,1,1", "0,1,1", true, true}, {3, "0,1,2", "0,1,1", true, false},
-                {3, "0,0,1", "0,1,1", false, false}, {4, "0,1,2,3", "0,0,0,0", true, false}, {4, "0,1,0,1", "0,1,0,2", false, true},
-                {25, "0" + ",0".repeat(24), "0" + ",0".repeat(23) + ",1", false, true}, {25, "0,1" + ",1".repeat(23), "0" + ",0".repeat(24), true, false}}) {
+            for (Object[] each : new Object[][] {{0, "", "", true, true}, {1, "0", "0", true, true},
+                {3, "0,1,1", "0,1,1", true, true}, {3, "0,1,2", "0,1,1", true, false}, {3, "0,0,1", "0,1,1", false, false},
+                {4, "0,1,2,3", "0,0,0,0", true, false}, {4, "0,1,0,1", "0,1,0,2", false, true},
+                {25, "0" + ",0".repeat(24), "0" + ",0".repeat(23) + ",1", false, true},
+                {25, "0,1" + ",1".repeat(23), "0" + ",0".repeat(24), true, false}}) {
                 fresh();
                 hold(0, 's', (Integer) each[0], 0, (String) each[1]);
                 hold(1, 's', (Integer) each[0], 60, (String) each[2]);
@@ -429,8 +443,9 @@ public final class BoundariesOfSetCalls extends BoundaryBench {
 
         private static void goes() {
             sentence("Lets a subset become the next one by the door.");
-            for (String[] each : new String[][] {{"4", "0,1", "1,2"}, {"4", "0,3", "0,1"}, {"4", "0,2", "2,3"}, {"40", "0,39", "0,1"}, {"40", "38,39", "37,39"},
-                {"40", "0,38", "38,39"}, {"2", "0,1", "0,1"}, {"1", "0", "0"}, {"2", "1", "0"}, {"40", "39", "0"}, {"40", "38", "39"}, {"5", "", ""}}) {
+            for (String[] each : new String[][] {{"4", "0,1", "1,2"}, {"4", "0,3", "0,1"}, {"4", "0,2", "2,3"},
+                {"40", "0,39", "0,1"}, {"40", "38,39", "37,39"}, {"40", "0,38", "38,39"}, {"2", "0,1", "0,1"},
+                {"1", "0", "0"}, {"2", "1", "0"}, {"40", "39", "0"}, {"40", "38", "39"}, {"5", "", ""}}) {
                 fresh();
                 hold(9, 'u', Integer.parseInt(each[0]), each[1].isEmpty() ? 0 : each[1].split(",").length, each[1]);
                 put("left alone");
@@ -451,8 +466,9 @@ public final class BoundariesOfSetCalls extends BoundaryBench {
 
         private static void comesAndGoes() {
             sentence("Returns 100 times the thing that comes, plus the one that goes; -1 if nothing changes.");
-            for (Object[] each : new Object[][] {{2, "0", 100}, {2, "1", 1}, {40, "38", 3938}, {40, "39", 39}, {4, "0,1", 200}, {4, "1,2", 1}, {4, "0,3", 103},
-                {40, "0,39", 139}, {40, "38,39", 3738}, {2, "0,1", -1}, {0, "", -1}, {40, "", -1}, {1, "0", -1}}) {
+            for (Object[] each : new Object[][] {{2, "0", 100}, {2, "1", 1}, {40, "38", 3938}, {40, "39", 39},
+                {4, "0,1", 200}, {4, "1,2", 1}, {4, "0,3", 103}, {40, "0,39", 139}, {40, "38,39", 3738}, {2, "0,1", -1},
+                {0, "", -1}, {40, "", -1}, {1, "0", -1}}) {
                 String row = (String) each[1];
                 fresh();
                 hold(9, 'u', (Integer) each[0], row.isEmpty() ? 0 : row.split(",").length, row);
@@ -466,8 +482,9 @@ public final class BoundariesOfSetCalls extends BoundaryBench {
         private static void ranks() {
             sentence("Puts how many subsets of its family are ahead of one by the door, from the first one of that row, into the"
                     + " text.");
-            for (String[] each : new String[][] {{"0", "", "0"}, {"40", "", "0"}, {"1", "0", "0"}, {"40", "0", "0"}, {"40", "39", "39"}, {"4", "0,1", "0"},
-                {"4", "0,3", "5"}, {"40", "0,39", "779"}, {"40", "38,39", "741"}, {"5", "0,1,2,3,4", "0"}}) {
+            for (String[] each : new String[][] {{"0", "", "0"}, {"40", "", "0"}, {"1", "0", "0"}, {"40", "0", "0"},
+                {"40", "39", "39"}, {"4", "0,1", "0"}, {"4", "0,3", "5"}, {"40", "0,39", "779"}, {"40", "38,39", "741"},
+                {"5", "0,1,2,3,4", "0"}}) {
                 fresh();
                 hold(9, 'u', Integer.parseInt(each[0]), each[1].isEmpty() ? 0 : each[1].split(",").length, each[1]);
                 put("7".repeat(200));
@@ -485,7 +502,8 @@ public final class BoundariesOfSetCalls extends BoundaryBench {
 
         private static void signs() {
             sentence("Returns how many signs the text has then.");
-            for (Object[] each : new Object[][] {{40, "9", 1}, {40, "10", 2}, {40, "39", 2}, {40, "", 1}, {40, "0,39", 3}, {40, "0,1", 1}}) {
+            for (Object[] each : new Object[][] {{40, "9", 1}, {40, "10", 2}, {40, "39", 2}, {40, "", 1}, {40, "0,39", 3},
+                {40, "0,1", 1}}) {
                 String row = (String) each[1];
                 fresh();
                 hold(9, 'u', (Integer) each[0], row.isEmpty() ? 0 : row.split(",").length, row);

@@ -277,8 +277,8 @@ public final class BoundariesOfShapes extends BoundaryBench {
         private static void crank() {
             sentence("The crank is, without a part 1, the greatest part, 0 without parts, otherwise how many parts are greater"
                     + " than how many parts are 1, less how many parts are 1.");
-            Object[][] told = {{"", 0}, {"2", 2}, {"60", 60}, {"1", -1}, {"1,1", -2}, {"2,1", 0}, {"3,2,1", 1}, {"2,1,1", -2},
-                {"3,1,1", -1}, {"3,3,2,1,1", 0}, {"4,3,1,1,1", -2}, {"5,4,3,2", 5}};
+            Object[][] told = {{"", 0}, {"2", 2}, {"60", 60}, {"1", -1}, {"1,1", -2}, {"2,1", 0}, {"3,2,1", 1},
+                {"2,1,1", -2}, {"3,1,1", -1}, {"3,3,2,1,1", 0}, {"4,3,1,1,1", -2}, {"5,4,3,2", 5}};
             for (Object[] each : told) {
                 String row = (String) each[0];
                 fresh();
@@ -294,9 +294,9 @@ public final class BoundariesOfShapes extends BoundaryBench {
             sentence("From unlike parts to odd ones each part is halved as often as it can be, doubling how many there are; from"
                     + " odd ones to unlike ones, of each part that is there some times, as many of it are put together as the"
                     + " binary digits of its number tell.");
-            String[][] told = {{"", ""}, {"1", "1"}, {"2", "1,1"}, {"2,1", "1,1,1"}, {"3", "3"}, {"4", "1,1,1,1"}, {"6,3", "3,3,3"},
-                {"12,5,4,1", "5,3,3,3,3,1,1,1,1,1"}, {"32,16,8,4", "1" + ",1".repeat(59)}, {"60", "15,15,15,15"}, {"59", "59"},
-                {"59,1", "59,1"}, {"58,2", "29,29,1,1"}};
+            String[][] told = {{"", ""}, {"1", "1"}, {"2", "1,1"}, {"2,1", "1,1,1"}, {"3", "3"}, {"4", "1,1,1,1"},
+                {"6,3", "3,3,3"}, {"12,5,4,1", "5,3,3,3,3,1,1,1,1,1"}, {"32,16,8,4", "1" + ",1".repeat(59)},
+                {"60", "15,15,15,15"}, {"59", "59"}, {"59,1", "59,1"}, {"58,2", "29,29,1,1"}};
             for (String[] each : told) {
                 fresh();
                 hold(1, 'd', sumOf(each[0]), 7, each[0]);
@@ -332,10 +332,10 @@ public final class BoundariesOfShapes extends BoundaryBench {
         private static void dominates() {
             sentence("One partition dominates another one of the same n if its first part is not less, and the first two together"
                     + " are not, and so on.");
-            Object[][] told = {{"", "", true, true}, {"1", "1", true, true}, {"2", "1,1", true, false}, {"3,3", "4,1,1", false, false},
-                {"4,2", "3,3", true, false}, {"3,2,1", "2,2,2", true, false}, {"2,2,2", "3,1,1,1", false, false},
-                {"5,1", "5,1", true, true}, {"6", "1,1,1,1,1,1", true, false}, {"4,4,4", "5,3,3,1", false, false},
-                {"5,3,2,2", "5,3,2,1,1", true, false}};
+            Object[][] told = {{"", "", true, true}, {"1", "1", true, true}, {"2", "1,1", true, false},
+                {"3,3", "4,1,1", false, false}, {"4,2", "3,3", true, false}, {"3,2,1", "2,2,2", true, false},
+                {"2,2,2", "3,1,1,1", false, false}, {"5,1", "5,1", true, true}, {"6", "1,1,1,1,1,1", true, false},
+                {"4,4,4", "5,3,3,1", false, false}, {"5,3,2,2", "5,3,2,1,1", true, false}};
             for (Object[] each : told) {
                 String one = (String) each[0];
                 String other = (String) each[1];
@@ -361,9 +361,10 @@ public final class BoundariesOfShapes extends BoundaryBench {
         private static void finer() {
             sentence("One split is finer than another one of as many things if things of one block are always in one block"
                     + " there.");
-            Object[][] told = {{"", "", true, true}, {"0", "0", true, true}, {"0,1", "0,0", true, false}, {"0,0", "0,0", true, true},
-                {"0,0,1", "0,1,1", false, false}, {"0,1,0,2", "0,1,0,1", true, false}, {"0,1,2,3", "0,0,0,0", true, false},
-                {"0,1,1,0", "0,1,1,0", true, true}, {"0,1,2,2,0", "0,1,2,2,2", false, false}};
+            Object[][] told = {{"", "", true, true}, {"0", "0", true, true}, {"0,1", "0,0", true, false},
+                {"0,0", "0,0", true, true}, {"0,0,1", "0,1,1", false, false}, {"0,1,0,2", "0,1,0,1", true, false},
+                {"0,1,2,3", "0,0,0,0", true, false}, {"0,1,1,0", "0,1,1,0", true, true},
+                {"0,1,2,2,0", "0,1,2,2,2", false, false}};
             for (Object[] each : told) {
                 String one = (String) each[0];
                 String other = (String) each[1];
@@ -380,10 +381,11 @@ public final class BoundariesOfShapes extends BoundaryBench {
         private static void finest() {
             sentence("The join has the finest blocks for which both are finer than it, the meet the blocks of things that are in"
                     + " one block in both.");
-            String[][] told = {{"", "", "", ""}, {"0", "0", "0", "0"}, {"0,1", "0,0", "0,0", "0,1"}, {"0,0,1,1", "0,1,1,2", "0,0,0,0", "0,1,2,3"},
-                {"0,1,2,3", "0,1,2,3", "0,1,2,3", "0,1,2,3"}, {"0,0,1,1,2,2", "0,1,1,2,2,3", "0,0,0,0,0,0", "0,1,2,3,4,5"},
-                {"0,1,2,2,1,0", "0,1,2,3,4,2", "0,1,0,0,1,0", "0,1,2,3,4,5"}, {"0,0,0,1,1", "0,0,1,1,1", "0,0,0,0,0", "0,0,1,2,2"},
-                {"0,0,1,2", "0,1,1,2", "0,0,0,1", "0,1,2,3"}};
+            String[][] told = {{"", "", "", ""}, {"0", "0", "0", "0"}, {"0,1", "0,0", "0,0", "0,1"},
+                {"0,0,1,1", "0,1,1,2", "0,0,0,0", "0,1,2,3"}, {"0,1,2,3", "0,1,2,3", "0,1,2,3", "0,1,2,3"},
+                {"0,0,1,1,2,2", "0,1,1,2,2,3", "0,0,0,0,0,0", "0,1,2,3,4,5"},
+                {"0,1,2,2,1,0", "0,1,2,3,4,2", "0,1,0,0,1,0", "0,1,2,3,4,5"},
+                {"0,0,0,1,1", "0,0,1,1,1", "0,0,0,0,0", "0,0,1,2,2"}, {"0,0,1,2", "0,1,1,2", "0,0,0,1", "0,1,2,3"}};
             for (String[] each : told) {
                 int n = each[0].isEmpty() ? 0 : each[0].split(",").length;
                 fresh();
@@ -446,8 +448,9 @@ public final class BoundariesOfShapes extends BoundaryBench {
             sentence("The polygon of n knots has n + 2 corners, numbered from 0; the side from 0 to n + 1 belongs to the whole,"
                     + " and a side from i to j that belongs to a knot with so many knots on its left side has a triangle with"
                     + " the corner i + 1 + so many, the sides to which belong to its two sides.");
-            String[][] told = {{"", "00"}, {"0,1", "111"}, {"0,1,0,1", "1212"}, {"0,0,1,1", "2121"}, {"0,1,0,1,0,1", "12213"},
-                {"0,0,0,1,1,1", "31221"}, {"0,0,1,1,0,1", "21312"}, {"0,1,0,0,1,1", "13122"}, {"0,0,1,0,1,1", "22131"}};
+            String[][] told = {{"", "00"}, {"0,1", "111"}, {"0,1,0,1", "1212"}, {"0,0,1,1", "2121"},
+                {"0,1,0,1,0,1", "12213"}, {"0,0,0,1,1,1", "31221"}, {"0,0,1,1,0,1", "21312"}, {"0,1,0,0,1,1", "13122"},
+                {"0,0,1,0,1,1", "22131"}};
             for (String[] each : told) {
                 int n = each[0].isEmpty() ? 0 : each[0].split(",").length / 2;
                 fresh();
@@ -498,9 +501,9 @@ public final class BoundariesOfShapes extends BoundaryBench {
             sentence("By a code, again and again the least node that is not done with and does not stand in what is left of the"
                     + " code is joined to the first number of that, which goes, and is done with; the last two nodes are"
                     + " joined.");
-            Object[][] told = {{1, "", ""}, {2, "", "01"}, {3, "0", "01 02"}, {3, "1", "01 12"}, {3, "2", "02 12"}, {4, "3,3", "03 13 23"},
-                {4, "0,1", "02 01 13"}, {5, "1,2,3", "01 12 23 34"}, {5, "0,0,0", "01 02 03 04"}, {6, "3,3,3,4", "03 13 23 34 45"},
-                {6, "5,0,5,0", "15 02 35 04 05"}};
+            Object[][] told = {{1, "", ""}, {2, "", "01"}, {3, "0", "01 02"}, {3, "1", "01 12"}, {3, "2", "02 12"},
+                {4, "3,3", "03 13 23"}, {4, "0,1", "02 01 13"}, {5, "1,2,3", "01 12 23 34"}, {5, "0,0,0", "01 02 03 04"},
+                {6, "3,3,3,4", "03 13 23 34 45"}, {6, "5,0,5,0", "15 02 35 04 05"}};
             for (Object[] each : told) {
                 int n = (Integer) each[0];
                 String row = (String) each[1];
@@ -539,8 +542,8 @@ public final class BoundariesOfShapes extends BoundaryBench {
         private static void cornerTable() {
             sentence("The corner table has at its first place as much as can be, then at the next one of the row, and so on, row"
                     + " by row.");
-            String[][] told = {{"1", "1", "1"}, {"2,3", "4,1", "2,0 2,1"}, {"3,1,2", "1,3,2", "1,2,0 0,1,0 0,0,2"}, {"5,1", "2,2,2", "2,2,1 0,0,1"},
-                {"2,2,2", "2,2,2", "2,0,0 0,2,0 0,0,2"}, {"1,5", "5,1", "1,0 4,1"}};
+            String[][] told = {{"1", "1", "1"}, {"2,3", "4,1", "2,0 2,1"}, {"3,1,2", "1,3,2", "1,2,0 0,1,0 0,0,2"},
+                {"5,1", "2,2,2", "2,2,1 0,0,1"}, {"2,2,2", "2,2,2", "2,0,0 0,2,0 0,0,2"}, {"1,5", "5,1", "1,0 4,1"}};
             for (String[] each : told) {
                 int n = sumOf(each[0]);
                 fresh();

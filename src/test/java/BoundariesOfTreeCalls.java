@@ -73,9 +73,11 @@ public final class BoundariesOfTreeCalls extends BoundaryBench {
         }
 
         private static void deepest() {
-            sentence("Returns how many brackets are open at most at once, or how many knots stand in a row from the top down at most.");
-            for (Object[] each : new Object[][] {{0, "", 0, 0}, {1, "0,1", 1, 1}, {2, "0,1,0,1", 1, 2}, {2, "0,0,1,1", 2, 2}, {3, "0,1,0,1,0,1", 1, 3},
-                {3, "0,0,0,1,1,1", 3, 3}, {3, "0,0,1,1,0,1", 2, 2}, {3, "0,1,0,0,1,1", 2, 3}, {4, "0,1,0,1,0,0,1,1", 2, 4}, {4, "0,0,1,1,0,0,1,1", 2, 3}, {4, "0,0,1,0,1,1,0,1", 2, 3},
+            sentence("Returns how many brackets are open at most at once, or how many knots stand in a row from the top"
+                    + " down at most.");
+            for (Object[] each : new Object[][] {{0, "", 0, 0}, {1, "0,1", 1, 1}, {2, "0,1,0,1", 1, 2}, {2, "0,0,1,1", 2, 2},
+                {3, "0,1,0,1,0,1", 1, 3}, {3, "0,0,0,1,1,1", 3, 3}, {3, "0,0,1,1,0,1", 2, 2}, {3, "0,1,0,0,1,1", 2, 3},
+                {4, "0,1,0,1,0,0,1,1", 2, 4}, {4, "0,0,1,1,0,0,1,1", 2, 3}, {4, "0,0,1,0,1,1,0,1", 2, 3},
                 {20, "0" + ",0".repeat(19) + ",1".repeat(20), 20, 20}, {20, "0,1" + ",0,1".repeat(19), 1, 20}}) {
                 fresh();
                 hold(9, 'b', (Integer) each[0], 0, (String) each[1]);
@@ -91,8 +93,8 @@ public final class BoundariesOfTreeCalls extends BoundaryBench {
             make(1, 'v', 1, 0);
             make(2, 'b', 20, 0);
             make(3, 'v', 20, 0);
-            for (int[] each : new int[][] {{0, 0, 0}, {0, 1, 0}, {1, 0, 1}, {1, 1, 1}, {1, 2, 1}, {2, 0, 20}, {2, 1, 1}, {2, 2, 2}, {2, 20, 2}, {2, 21, 1},
-                {3, 0, 1}, {3, 1, 2}, {3, 19, 2}, {3, 20, 1}, {3, 21, 20}}) {
+            for (int[] each : new int[][] {{0, 0, 0}, {0, 1, 0}, {1, 0, 1}, {1, 1, 1}, {1, 2, 1}, {2, 0, 20}, {2, 1, 1},
+                {2, 2, 2}, {2, 20, 2}, {2, 21, 1}, {3, 0, 1}, {3, 1, 2}, {3, 19, 2}, {3, 20, 1}, {3, 21, 20}}) {
                 answers(each[2], c -> c.triangles(each[0], each[1]));
             }
         }
@@ -125,12 +127,14 @@ public final class BoundariesOfTreeCalls extends BoundaryBench {
             unfit(NO_TREE, "t", (c, slot) -> c.degree(slot, 0));
             noSuchNode("Throws `IllegalArgumentException` if there is no such node", (c, node) -> c.degree(9, node));
             section("Promise 40");
-            plain("the slot", "the one node", "the other one", "Returns how many joints the way from one node of a tree to another one has.");
+            plain("the slot", "the one node", "the other one",
+                    "Returns how many joints the way from one node of a tree to another one has.");
             ways();
             noSuchSlot('t', (c, slot) -> c.far(slot, 0, 3));
             holdsNone('t', (c, slot) -> c.far(slot, 0, 0));
             unfit(NO_TREE, "t", (c, slot) -> c.far(slot, 0, 0));
-            noSuchNode("Throws `IllegalArgumentException` if there is no such node, for either", (c, node) -> c.far(9, node, 0) + c.far(9, 0, node));
+            noSuchNode("Throws `IllegalArgumentException` if there is no such node, for either",
+                    (c, node) -> c.far(9, node, 0) + c.far(9, 0, node));
             noSuchNodeOfBoth();
         }
 
@@ -140,7 +144,8 @@ public final class BoundariesOfTreeCalls extends BoundaryBench {
             make(1, 't', 2, 0);
             make(2, 't', 20, 0);
             hold(3, 't', 5, 0, "4,4,4");
-            for (int[] each : new int[][] {{0, 0, 0}, {1, 0, 1}, {1, 1, 1}, {2, 0, 19}, {2, 1, 1}, {2, 19, 1}, {3, 4, 4}, {3, 3, 1}, {3, 0, 1}}) {
+            for (int[] each : new int[][] {{0, 0, 0}, {1, 0, 1}, {1, 1, 1}, {2, 0, 19}, {2, 1, 1}, {2, 19, 1}, {3, 4, 4},
+                {3, 3, 1}, {3, 0, 1}}) {
                 answers(each[2], c -> c.degree(each[0], each[1]));
             }
         }
@@ -152,8 +157,9 @@ public final class BoundariesOfTreeCalls extends BoundaryBench {
             make(2, 't', 20, 0);
             hold(3, 't', 20, 0, "1,2,3,4,5,6,7,8,9,10,11,12,13,14,15,16,17,18");
             hold(4, 't', 5, 0, "4,4,4");
-            for (int[] each : new int[][] {{0, 0, 0, 0}, {1, 0, 1, 1}, {1, 1, 0, 1}, {1, 1, 1, 0}, {2, 0, 19, 1}, {2, 1, 19, 2}, {2, 19, 19, 0}, {3, 0, 19, 19},
-                {3, 19, 0, 19}, {3, 1, 19, 18}, {3, 0, 0, 0}, {4, 0, 4, 1}, {4, 0, 3, 2}}) {
+            for (int[] each : new int[][] {{0, 0, 0, 0}, {1, 0, 1, 1}, {1, 1, 0, 1}, {1, 1, 1, 0}, {2, 0, 19, 1},
+                {2, 1, 19, 2}, {2, 19, 19, 0}, {3, 0, 19, 19}, {3, 19, 0, 19}, {3, 1, 19, 18}, {3, 0, 0, 0}, {4, 0, 4, 1},
+                {4, 0, 3, 2}}) {
                 answers(each[3], c -> c.far(each[0], each[1], each[2]));
             }
         }
@@ -205,7 +211,8 @@ public final class BoundariesOfTreeCalls extends BoundaryBench {
             noSuchPlace();
             unlikeSums();
             section("Promise 43");
-            plain(SLOTS_OF_SUMS, "the slot of the columns' sums", "Tells whether there is a table of 0 and 1 with the sums of two partitions.");
+            plain(SLOTS_OF_SUMS, "the slot of the columns' sums",
+                    "Tells whether there is a table of 0 and 1 with the sums of two partitions.");
             binary();
             noSuchSlotForEither('o', (c, a, b) -> c.isBinary(a, b));
             oneHoldsNone("Throws `NoSuchElementException` if one of them holds none", 'd', (c, a, b) -> c.isBinary(a, b));
@@ -213,10 +220,12 @@ public final class BoundariesOfTreeCalls extends BoundaryBench {
             unlikeN(PARTITIONS, (c, a, b) -> c.isBinary(a, b));
         }
 
-        private static final String[][] TOLD = {{"a", "", "a", "", "1"}, {"a", "", "u", "0", "1"}, {"s", "0,0", "a", "", "1"}, {"s", "0,0", "s", "0,0,0,0", "1"},
-            {"a", "1", "a", "1", "1"}, {"c", "1,1", "c", "2", "1"}, {"c", "2,2", "c", "2,2", "3"}, {"c", "1,1,1,1", "c", "1,1,1,1", "24"},
-            {"c", "3,3,3,3", "c", "3,3,3,3", "2008"}, {"a", "12", "c", "3,3,3,3", "1"}, {"c", "6,6", "c", "6,6", "7"}, {"u", "0,12", "a", "12", "1"},
-            {"u", "0,5", "s", "0,1,2,2", "1"}, {"u", "1,4", "s", "0,1,2,2", "3"}, {"t", "0,3,0", "c", "1,1,1", "1"}, {"c", "2,1,1", "c", "1,2,1", "7"}};
+        private static final String[][] TOLD = {{"a", "", "a", "", "1"}, {"a", "", "u", "0", "1"},
+            {"s", "0,0", "a", "", "1"}, {"s", "0,0", "s", "0,0,0,0", "1"}, {"a", "1", "a", "1", "1"},
+            {"c", "1,1", "c", "2", "1"}, {"c", "2,2", "c", "2,2", "3"}, {"c", "1,1,1,1", "c", "1,1,1,1", "24"},
+            {"c", "3,3,3,3", "c", "3,3,3,3", "2008"}, {"a", "12", "c", "3,3,3,3", "1"}, {"c", "6,6", "c", "6,6", "7"},
+            {"u", "0,12", "a", "12", "1"}, {"u", "0,5", "s", "0,1,2,2", "1"}, {"u", "1,4", "s", "0,1,2,2", "3"},
+            {"t", "0,3,0", "c", "1,1,1", "1"}, {"c", "2,1,1", "c", "1,2,1", "7"}};
 
         private static void holdSums(int slot, String letter, String row) {
             char family = letter.charAt(0);
@@ -256,10 +265,11 @@ public final class BoundariesOfTreeCalls extends BoundaryBench {
         private static void tooGreat() {
             sentence("Throws `IllegalArgumentException` if one of both has more than 4 numbers, or they have unlike sums, or sums"
                     + " above 12");
-            String[][] none = {{"c", "1,1,1,1,1", "c", "5"}, {"c", "1,1,1,1,1", "c", "1,1,1,1,1"}, {"c", "2,1,1,1", "c", "1,1,1,1,1"}, {"c", "5", "c", "4"},
-                {"c", "4,1", "c", "4,2"}, {"a", "", "a", "1"}, {"a", "13", "a", "13"}, {"a", "13", "a", "12"}, {"a", "12", "a", "13"}, {"c", "4,3,3,3", "a", "13"},
-                {"s", "0,0,0,0,0", "a", ""}, {"s", "0,0,0,0,0", "s", "0,0,0,0"}, {"u", "1,12", "a", "13"}, {"u", "0,1,2,3,4", "c", "10"}, {"a", "60", "a", "60"},
-                {"a", "24", "a", "12"}, {"c", "1,1", "c", "1,1,1"}};
+            String[][] none = {{"c", "1,1,1,1,1", "c", "5"}, {"c", "1,1,1,1,1", "c", "1,1,1,1,1"},
+                {"c", "2,1,1,1", "c", "1,1,1,1,1"}, {"c", "5", "c", "4"}, {"c", "4,1", "c", "4,2"}, {"a", "", "a", "1"},
+                {"a", "13", "a", "13"}, {"a", "13", "a", "12"}, {"a", "12", "a", "13"}, {"c", "4,3,3,3", "a", "13"},
+                {"s", "0,0,0,0,0", "a", ""}, {"s", "0,0,0,0,0", "s", "0,0,0,0"}, {"u", "1,12", "a", "13"},
+                {"u", "0,1,2,3,4", "c", "10"}, {"a", "60", "a", "60"}, {"a", "24", "a", "12"}, {"c", "1,1", "c", "1,1,1"}};
             for (String[] each : none) {
                 fresh();
                 holdSums(0, each[0], each[1]);
@@ -267,7 +277,8 @@ public final class BoundariesOfTreeCalls extends BoundaryBench {
                 refuses(ARGUMENT, c -> c.tables(0, 9));
                 refuses(ARGUMENT, c -> c.tables(9, 0));
             }
-            String[][] some = {{"c", "1,1,1,2", "c", "5"}, {"a", "12", "a", "12"}, {"c", "9,1,1,1", "c", "1,1,1,9"}, {"s", "0,0,0,0", "a", ""}, {"a", "", "a", ""}};
+            String[][] some = {{"c", "1,1,1,2", "c", "5"}, {"a", "12", "a", "12"}, {"c", "9,1,1,1", "c", "1,1,1,9"},
+                {"s", "0,0,0,0", "a", ""}, {"a", "", "a", ""}};
             for (String[] each : some) {
                 fresh();
                 holdSums(0, each[0], each[1]);
@@ -280,8 +291,10 @@ public final class BoundariesOfTreeCalls extends BoundaryBench {
         /** Rows and columns that are used up, and sums of 0. */
         private static void cornerNumbers() {
             sentence("Returns a number of the corner table with the sums of two figures.");
-            String[][] told = {{"c", "1", "c", "1", "1"}, {"c", "4,1", "c", "2,3", "2,2 0,1"}, {"c", "2,2", "c", "2,2", "2,0 0,2"}, {"u", "0,5", "c", "3,2", "0,0 3,2"},
-                {"u", "0,5", "u", "1,4", "0,0 1,4"}, {"s", "0,0", "s", "0,0,0", "0,0,0 0,0,0"}, {"a", "3", "c", "1,1,1", "1,1,1"}, {"c", "1,1,1", "a", "3", "1 1 1"}};
+            String[][] told = {{"c", "1", "c", "1", "1"}, {"c", "4,1", "c", "2,3", "2,2 0,1"},
+                {"c", "2,2", "c", "2,2", "2,0 0,2"}, {"u", "0,5", "c", "3,2", "0,0 3,2"},
+                {"u", "0,5", "u", "1,4", "0,0 1,4"}, {"s", "0,0", "s", "0,0,0", "0,0,0 0,0,0"},
+                {"a", "3", "c", "1,1,1", "1,1,1"}, {"c", "1,1,1", "a", "3", "1 1 1"}};
             for (String[] each : told) {
                 fresh();
                 holdSums(0, each[0], each[1]);
@@ -348,8 +361,8 @@ public final class BoundariesOfTreeCalls extends BoundaryBench {
 
         private static void unlikeSums() {
             sentence("Throws `IllegalArgumentException` if they have unlike sums");
-            for (String[] each : new String[][] {{"c", "5", "c", "4"}, {"c", "4", "c", "5"}, {"c", "1", "s", "0"}, {"a", "60", "a", "59"}, {"u", "0,1", "u", "0,2"},
-                {"a", "60", "c", "1"}}) {
+            for (String[] each : new String[][] {{"c", "5", "c", "4"}, {"c", "4", "c", "5"}, {"c", "1", "s", "0"},
+                {"a", "60", "a", "59"}, {"u", "0,1", "u", "0,2"}, {"a", "60", "c", "1"}}) {
                 fresh();
                 holdSums(0, each[0], each[1]);
                 holdSums(9, each[2], each[3]);
@@ -364,9 +377,11 @@ public final class BoundariesOfTreeCalls extends BoundaryBench {
 
         private static void binary() {
             sentence("Returns true if so.");
-            for (Object[] each : new Object[][] {{0, "", "", true}, {1, "1", "1", true}, {2, "2", "1,1", true}, {2, "2", "2", false}, {2, "1,1", "1,1", true},
-                {2, "1,1", "2", true}, {4, "2,2", "2,2", true}, {4, "3,1", "2,2", false}, {4, "2,1,1", "3,1", true}, {4, "3,1", "3,1", false}, {6, "3,2,1", "3,2,1", true},
-                {60, "60", "1" + ",1".repeat(59), true}, {60, "60", "2" + ",1".repeat(58), false}, {60, "59,1", "2" + ",1".repeat(58), true}}) {
+            for (Object[] each : new Object[][] {{0, "", "", true}, {1, "1", "1", true}, {2, "2", "1,1", true},
+                {2, "2", "2", false}, {2, "1,1", "1,1", true}, {2, "1,1", "2", true}, {4, "2,2", "2,2", true},
+                {4, "3,1", "2,2", false}, {4, "2,1,1", "3,1", true}, {4, "3,1", "3,1", false}, {6, "3,2,1", "3,2,1", true},
+                {60, "60", "1" + ",1".repeat(59), true}, {60, "60", "2" + ",1".repeat(58), false},
+                {60, "59,1", "2" + ",1".repeat(58), true}}) {
                 fresh();
                 hold(0, 'a', (Integer) each[0], 0, (String) each[1]);
                 hold(9, 'l', (Integer) each[0], 60, (String) each[2]);
