@@ -203,7 +203,7 @@ public final class PartitionCabinet {
     /** Lets the slot of the latest call that is kept hold what it held ahead of it; returns the slot. */
     public int undo() throws NoSuchElementException {
         int latest = keptNext > 0 ? keptNext - 1 : KEPT - 1;
-        if (keptCount <= 0 || latest >= KEPT) {
+        if (keptCount <= 0 || latest < 0 || latest >= KEPT) {
             throw new NoSuchElementException("no call is kept");
         }
         keptNext = latest;
@@ -820,7 +820,7 @@ public final class PartitionCabinet {
         /** The text becomes the digits of a number not below 0. */
         void becomeNumber(long number) {
             long power = 1;
-            for (int i = 0; i < 18 && number / power >= 10; i++) {
+            for (int i = 0; i < 18 && power <= number / 10; i++) {
                 power *= 10;
             }
             clear();
@@ -968,7 +968,8 @@ public final class PartitionCabinet {
 
         static long chosenFrom(long[] pascal, int of, int some) {
             int index = of * SIDE + some;
-            return some >= 0 && some <= of && of < SIDE && index < pascal.length ? pascal[index] : 0;
+            boolean isThere = some >= 0 && some <= of && of < SIDE && index >= 0 && index < pascal.length;
+            return isThere ? pascal[index] : 0;
         }
 
         boolean allows(int number) {
@@ -1119,12 +1120,18 @@ public final class PartitionCabinet {
             for (int sum = filled + 1; sum <= n && sum <= GREATEST_REST; sum++) {
                 int mostParts = isFew ? sum : 1;
                 for (int part = 1; part <= sum; part++) {
-                    for (int parts = 1; parts <= mostParts && places < table.length; parts++) {
-                        table[places] = ways(sum, part - 1, parts) + waysBehind(sum, part, parts);
-                        places++;
+                    for (int parts = 1; parts <= mostParts; parts++) {
+                        fillNext(ways(sum, part - 1, parts) + waysBehind(sum, part, parts));
                     }
                 }
                 filled = sum;
+            }
+        }
+
+        private void fillNext(int number) {
+            if (places >= 0 && places < table.length) {
+                table[places] = number;
+                places++;
             }
         }
 
@@ -1223,7 +1230,7 @@ public final class PartitionCabinet {
 
         private void fill() {
             for (int more = 0; more < SIDE; more++) {
-                for (int used = 0; used + more < SIDE; used++) {
+                for (int used = 0; used < SIDE - more; used++) {
                     long ways = wanted == ANY || wanted == used ? 1 : 0;
                     if (more > 0) {
                         ways = used * endsOf(more - 1, used) + endsOf(more - 1, used + 1);
@@ -1741,6 +1748,7 @@ public final class PartitionCabinet {
     /** What is told of the shapes of partitions, and of tables with told sums. */
     private static final class Shapes {
         private static final int GREATEST_PART = 60;
+        private static final int BINARY_DIGITS = 6;
         private static final int STATES = 256;
 
         private final int[] tally = new int[GREATEST_PART + 1];
@@ -1789,7 +1797,7 @@ public final class PartitionCabinet {
                 to.begin('d', from.n, from.k);
             }
             for (int part = GREATEST_PART; part > 0; part--) {
-                for (int i = 0; i < tally[part]; i++) {
+                for (int i = 0; i < tallied(part); i++) {
                     to.add(part);
                 }
             }
@@ -1815,7 +1823,7 @@ public final class PartitionCabinet {
             for (int i = 0; i < unlike.size; i++) {
                 int part = unlike.numberAt(i);
                 int times = 1;
-                while (part > 0 && part % 2 == 0) {
+                for (int halved = 0; halved < BINARY_DIGITS && part % 2 == 0; halved++) {
                     part /= 2;
                     times *= 2;
                 }
@@ -1826,8 +1834,8 @@ public final class PartitionCabinet {
         private void tallyPutTogether(Figure odd) {
             for (int part = 1; part <= GREATEST_PART; part += 2) {
                 int times = odd.timesOf(part);
-                for (int together = 1; together <= times; together *= 2) {
-                    tallyMore(part * together, (times & together) != 0 ? 1 : 0);
+                for (int digit = 0; digit < BINARY_DIGITS; digit++) {
+                    tallyMore(part << digit, times >> digit & 1);
                 }
             }
         }
@@ -1862,7 +1870,7 @@ public final class PartitionCabinet {
                 }
             }
             for (int prime = 2; prime <= GREATEST_PART; prime++) {
-                for (int i = 0; i < tally[prime]; i++) {
+                for (int i = 0; i < tallied(prime); i++) {
                     text.timesPlus(prime, 0);
                 }
             }
@@ -1870,7 +1878,7 @@ public final class PartitionCabinet {
 
         private int leastDivisor(int factor) {
             int divisor = 2;
-            while (divisor < factor && factor % divisor != 0) {
+            while (divisor > 1 && divisor < factor && factor % divisor != 0) {
                 divisor++;
             }
             return divisor;
@@ -1918,8 +1926,9 @@ public final class PartitionCabinet {
             for (int i = 0; i < columns.size; i++) {
                 int last = Math.min(states, STATES) - 1;
                 for (int state = last - stride; state >= 0; state--) {
-                    if (leftOf(columns, i, state) < columns.numberAt(i)) {
-                        ways[state] += ways[state + stride];
+                    int fuller = state + stride;
+                    if (fuller >= 0 && fuller <= last && leftOf(columns, i, state) < columns.numberAt(i)) {
+                        ways[state] += ways[fuller];
                     }
                 }
                 stride *= columns.numberAt(i) + 1;

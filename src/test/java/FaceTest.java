@@ -1,71 +1,34 @@
+import java.io.IOException;
 import java.lang.reflect.Constructor;
 import java.lang.reflect.Field;
 import java.lang.reflect.Method;
 import java.lang.reflect.Modifier;
+import java.nio.file.Files;
+import java.nio.file.Path;
 import java.util.ArrayList;
 import java.util.List;
 import java.util.TreeSet;
+import java.util.regex.Matcher;
+import java.util.regex.Pattern;
 
 /** The class has the public face of the document, and nothing else that can be seen from outside. */
 public final class FaceTest {
 
-    private static final String[] FACE = {
-        "int count(char,int,int) IllegalArgumentException",
-        "int make(int,char,int,int) IndexOutOfBoundsException,IllegalArgumentException,NoSuchElementException",
-        "int unrank(int,char,int,int) IndexOutOfBoundsException,NumberFormatException,IllegalArgumentException,NoSuchElementException",
-        "int draw(int,char,int,int,long) IndexOutOfBoundsException,IllegalArgumentException,NoSuchElementException",
-        "int read(int,char,int,int) IndexOutOfBoundsException,IllegalArgumentException",
-        "int copy(int,int) IndexOutOfBoundsException,NoSuchElementException",
-        "int tell(int) IndexOutOfBoundsException,NoSuchElementException",
-        "int rank(int) IndexOutOfBoundsException,NoSuchElementException",
-        "boolean next(int) IndexOutOfBoundsException,NoSuchElementException",
-        "boolean previous(int) IndexOutOfBoundsException,NoSuchElementException",
-        "int skip(int,long) IndexOutOfBoundsException,NoSuchElementException",
-        "int compare(int,int) IndexOutOfBoundsException,NoSuchElementException,IllegalArgumentException",
-        "char family(int) IndexOutOfBoundsException,NoSuchElementException",
-        "int length(int) IndexOutOfBoundsException,NoSuchElementException",
-        "int at(int,int) IndexOutOfBoundsException,NoSuchElementException",
-        "int undo() NoSuchElementException",
-        "int type(char) IllegalArgumentException,IllegalStateException",
-        "int erase() ",
-        "char signAt(int) IllegalArgumentException",
-        "int turn(int) IndexOutOfBoundsException,NoSuchElementException,UnsupportedOperationException",
-        "int square(int) IndexOutOfBoundsException,NoSuchElementException,UnsupportedOperationException",
-        "int excess(int) IndexOutOfBoundsException,NoSuchElementException,UnsupportedOperationException",
-        "int crank(int) IndexOutOfBoundsException,NoSuchElementException,UnsupportedOperationException",
-        "int match(int) IndexOutOfBoundsException,NoSuchElementException,UnsupportedOperationException",
-        "int often(int,int) IndexOutOfBoundsException,NoSuchElementException",
-        "int hook(int,int,int) IndexOutOfBoundsException,NoSuchElementException,UnsupportedOperationException",
-        "int fillings(int) IndexOutOfBoundsException,NoSuchElementException,UnsupportedOperationException",
-        "boolean isOver(int,int) IndexOutOfBoundsException,NoSuchElementException,UnsupportedOperationException,IllegalArgumentException",
-        "int blocks(int) IndexOutOfBoundsException,NoSuchElementException,UnsupportedOperationException",
-        "int join(int,int,int) IndexOutOfBoundsException,NoSuchElementException,UnsupportedOperationException,IllegalArgumentException",
-        "int meet(int,int,int) IndexOutOfBoundsException,NoSuchElementException,UnsupportedOperationException,IllegalArgumentException",
-        "boolean isFiner(int,int) IndexOutOfBoundsException,NoSuchElementException,UnsupportedOperationException,IllegalArgumentException",
-        "int door(int) IndexOutOfBoundsException,NoSuchElementException,UnsupportedOperationException",
-        "int doorRank(int) IndexOutOfBoundsException,NoSuchElementException,UnsupportedOperationException",
-        "int branch(int) IndexOutOfBoundsException,NoSuchElementException,UnsupportedOperationException",
-        "int deepest(int) IndexOutOfBoundsException,NoSuchElementException,UnsupportedOperationException",
-        "int triangles(int,int) IndexOutOfBoundsException,NoSuchElementException,UnsupportedOperationException,IllegalArgumentException",
-        "int degree(int,int) IndexOutOfBoundsException,NoSuchElementException,UnsupportedOperationException,IllegalArgumentException",
-        "int far(int,int,int) IndexOutOfBoundsException,NoSuchElementException,UnsupportedOperationException,IllegalArgumentException",
-        "int tables(int,int) IndexOutOfBoundsException,NoSuchElementException,IllegalArgumentException",
-        "int corner(int,int,int,int) IndexOutOfBoundsException,NoSuchElementException,IllegalArgumentException",
-        "boolean isBinary(int,int) IndexOutOfBoundsException,NoSuchElementException,UnsupportedOperationException,IllegalArgumentException",
-        "int held() ",
-        "long checksum() ",
-        "boolean isSound() ",
-    };
+    private static final Path DOCUMENT = Path.of("../shared/DOC.md");
+    private static final Path SOURCE = Path.of("src/main/java/PartitionCabinet.java");
+    private static final int MEMBERS = 46;
 
     private static int passed = 0;
     private static int failed = 0;
 
-    public static void main(String[] args) {
+    public static void main(String[] args) throws IOException {
         Class<?> face = PartitionCabinet.class;
+        List<String> members = membersOfFace();
+        checkSource(members);
         check("public and final", Modifier.isPublic(face.getModifiers()) && Modifier.isFinal(face.getModifiers()));
         check("no package", face.getPackageName().isEmpty());
         check("no class above", face.getSuperclass() == Object.class && face.getInterfaces().length == 0);
-        TreeSet<String> names = checkMethods(face);
+        TreeSet<String> names = checkMethods(face, members);
         checkOthers(face);
         int classes = 1;
         for (Class<?> inside : face.getDeclaredClasses()) {
@@ -92,11 +55,49 @@ public final class FaceTest {
         }
     }
 
-    private static TreeSet<String> checkMethods(Class<?> face) {
-        TreeSet<String> due = new TreeSet<>(List.of(FACE));
+    /** What stands between "public" and the end in each line of the document's face. */
+    private static List<String> membersOfFace() throws IOException {
+        List<String> members = new ArrayList<>();
+        boolean isFace = false;
+        for (String line : Files.readAllLines(DOCUMENT)) {
+            String bare = line.strip();
+            isFace = isFace ? !bare.equals("```") : bare.equals("```java");
+            if (isFace && bare.startsWith("public ") && bare.endsWith(";")) {
+                members.add(bare.substring("public ".length(), bare.length() - 1));
+            }
+        }
+        check("the document's face has " + MEMBERS + " members, not " + members.size(), members.size() == MEMBERS);
+        return members;
+    }
+
+    /** Each member stands in the source word for word, with the names of its parameters. */
+    private static void checkSource(List<String> members) throws IOException {
+        String code = Files.readString(SOURCE).replaceAll("\\s+", " ");
+        for (String member : members) {
+            check("in the source: " + member, code.contains("public " + member + " {"));
+        }
+    }
+
+    /** A method of the document's face as told() tells it; a constructor is none. */
+    private static String dueOf(String member) {
+        Matcher parts = Pattern.compile("(\\w+) (\\w+)\\(([^)]*)\\)(?: throws (.*))?").matcher(member);
+        if (!parts.matches()) {
+            return "";
+        }
+        String kinds = parts.group(3).replaceAll("(\\w+) \\w+", "$1").replace(", ", ",");
+        String thrown = parts.group(4) == null ? "" : parts.group(4).replace(", ", ",");
+        return parts.group(1) + " " + parts.group(2) + "(" + kinds + ") " + thrown;
+    }
+
+    private static TreeSet<String> checkMethods(Class<?> face, List<String> members) {
+        TreeSet<String> due = new TreeSet<>();
         TreeSet<String> names = new TreeSet<>();
-        for (String each : FACE) {
-            names.add(each.substring(each.indexOf(' ') + 1, each.indexOf('(')));
+        for (String member : members) {
+            String each = dueOf(member);
+            if (!each.isEmpty()) {
+                due.add(each);
+                names.add(each.substring(each.indexOf(' ') + 1, each.indexOf('(')));
+            }
         }
         TreeSet<String> seen = new TreeSet<>();
         for (Method method : face.getDeclaredMethods()) {
